@@ -1496,7 +1496,7 @@ public final class LeaseLedger {
 
         /** RE-MEASURED: by how much OWED is more then. */
         long remeasure(int lease, Lease x) {
-            long owedThen = x.worthLeft();
+            long owedThen = x.worthFrom(x.gone, x.rate);
             long more = owedThen - x.owed;
             long usedThen = Math.max(0L, x.used + more);
             journal.open(SORT_MEASURED, period, lease);
