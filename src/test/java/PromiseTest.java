@@ -413,6 +413,10 @@ public final class PromiseTest {
         LeaseLedger z = Check.told("lease c 0 1 5;fair c 1000;pay c 1 1 1000;");
         // Above 999.5: 1000000000/999.5 = 1000500.25.
         is("7 pays that come behind count", Check.lease(z, 0, 2), 500);
+        // By 1 of a million 1099989 is less by one already: the greatest is 0, and it is found.
+        LeaseLedger o = Check.told("lease c 0 1 5;" + times(11, "pay c 1 1 99999;") + "fair c 1099989;");
+        is("7 found 0", Check.lease(o, 0, 2), 0);
+        is("7 whether", Check.lease(o, 0, 7), 1);
         LeaseLedger e = Check.told("lease c 0 1 5;pay c 1 1 1000;early c;fair c 1000;");
         is("7 the greatest of all", Check.lease(e, 0, 2), 200000);
         is("7 whether", Check.lease(e, 0, 7), 1);
@@ -654,6 +658,8 @@ public final class PromiseTest {
         LeaseLedger y = begun("lease a 0 2 0;pay a 1 2 100;fee a 100;");
         is("17 loss", y.part(0, 500), 50 - 75);
         is("17 loss on the account", y.account(5), 25);
+        is("17 the greatest", y.part(0, 999), 49 - 74);
+        is("17 due", y.due(0, 2), 0);
         // SETTING is less too: 1001/2 -> 500, by 1500 of 1000 it is 750.
         LeaseLedger t = begun(TIED);
         t.part(0, 500);
@@ -765,6 +771,8 @@ public final class PromiseTest {
         is("21 in period 99", x.become(600), 700);
         is("21 index 99", x.index(99), 600);
         is("21 index 98", x.index(98), 700);
+        x.undo();
+        is("21 undone", x.index(99), 700);
     }
 
     private static void p22Plan() {
@@ -946,6 +954,9 @@ public final class PromiseTest {
         is("30 most", x.partFor(0, 45), 978);
         is("30 by none", x.partFor(0, 46), -2);
         is("30 far", x.partFor(0, Long.MAX_VALUE), -2);
+        x.down(0, 955);
+        is("30 the greatest part", x.partFor(0, 999), 999);
+        is("30 all is no part", x.partFor(0, 1000), -2);
         is("30 lease 1", x.partFor(1, 0), -1);
         is("30 lease -1", x.partFor(-1, 0), -1);
         x.end(0);
@@ -1110,6 +1121,18 @@ public final class PromiseTest {
         is("39 twice", x.chance(1, 2, 0), 1011 + 977);
         is("39 greatest", x.chance(1, 2, 1), 1011);
         is("39 least", x.chance(1, 2, 2), 977);
+        long[] ends = new long[11];
+        for (int n = 1; n <= 10; n++) {
+            ends[n] = x.chance(1, n, 0) - (n == 1 ? 0 : x.chance(1, n - 1, 0));
+        }
+        long most = ends[1];
+        long least = ends[1];
+        for (int n = 2; n <= 10; n++) {
+            most = Math.max(most, ends[n]);
+            least = Math.min(least, ends[n]);
+            is("39 greatest of " + n, x.chance(1, n, 1), most);
+            is("39 least of " + n, x.chance(1, n, 2), least);
+        }
         is("39 seed of the text", x.chance(-1, 2, 0), 1988);
         is("39 nothing changes", x.index(0), 1000);
         is("39 nothing changes", x.count(2), 0);
