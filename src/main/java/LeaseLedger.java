@@ -62,19 +62,20 @@ public final class LeaseLedger {
 
     private final byte[] tape = new byte[MOST_TAPE];
     private int tapeSize;
-    private int faultSort;
-    private int faultPlace = NONE;
-
     private Book book = new Book();
-    // The rows below are made when first needed: an object that only tells a text stays small.
-    private Book spare;
-    private Book image;
+    private Book spare = new Book();
+    private final Reader reader = new Reader(tape, spare);
+    private final Book image = new Book();
     private boolean imageKept;
     private final Book[] past = new Book[MOST_UNDONE];
     private int pastFirst;
     private int pastCount;
 
+    /** All rows are made here and used again: no call makes one, however many calls a run has. */
     public LeaseLedger() {
+        for (int i = 0; i < MOST_UNDONE; i++) {
+            past[i] = new Book();
+        }
     }
 
     public int feed(int a, int b, int c, int d, int e) {
@@ -93,13 +94,11 @@ public final class LeaseLedger {
         if (n < 0 || n > tapeSize) {
             return REFUSED;
         }
-        Book fresh = spareBook();
+        Book fresh = spare;
         fresh.clear();
-        Reader reader = new Reader(tape, n, fresh);
+        reader.begin(n, fresh);
         reader.read();
         tapeSize = 0;
-        faultSort = reader.fault;
-        faultPlace = reader.place;
         if (reader.fault != 0) {
             return NONE;
         }
@@ -113,8 +112,8 @@ public final class LeaseLedger {
 
     public int fault(int what) {
         switch (what) {
-            case 0: return faultSort;
-            case 1: return faultPlace;
+            case 0: return reader.fault;
+            case 1: return reader.place;
             default: return NONE;
         }
     }
@@ -346,7 +345,7 @@ public final class LeaseLedger {
         if (x == null) {
             return REFUSED;
         }
-        Lease trial = spareBook().leases[0];
+        Lease trial = spare.leases[0];
         int best = 0;
         long bestOwed = x.owed;
         int bestLeft = x.left();
@@ -486,7 +485,7 @@ public final class LeaseLedger {
         if (!x.tied) {
             return x.owed;
         }
-        Lease trial = spareBook().leases[0];
+        Lease trial = spare.leases[0];
         trial.copyFrom(x);
         trial.followIndex(v);
         return trial.worthLeft();
@@ -498,7 +497,7 @@ public final class LeaseLedger {
         }
         Option o = book.options[option];
         Lease x = book.leases[o.lease];
-        Lease trial = spareBook().leases[0];
+        Lease trial = spare.leases[0];
         trial.copyFrom(x);
         book.goOnByOption(trial, o);
         return trial.worthLeft() - x.owed;
@@ -568,26 +567,19 @@ public final class LeaseLedger {
         if (pastCount < 1) {
             return NONE;
         }
-        Book latest = past[(pastFirst + pastCount - 1) % MOST_UNDONE];
-        if (latest == null) {
-            return NONE;
-        }
-        book.copyFrom(latest);
+        book.copyFrom(past[(pastFirst + pastCount - 1) % MOST_UNDONE]);
         pastCount--;
         return pastCount;
     }
 
     public int keep() {
-        if (image == null) {
-            image = new Book();
-        }
         image.copyFrom(book);
         imageKept = true;
         return book.period;
     }
 
     public int back() {
-        if (!imageKept || image == null) {
+        if (!imageKept) {
             return NONE;
         }
         book.copyFrom(image);
@@ -625,34 +617,22 @@ public final class LeaseLedger {
         return x != null && x.stage == RUNNING ? x : null;
     }
 
-    private Book spareBook() {
-        if (spare == null) {
-            spare = new Book();
-        }
-        return spare;
-    }
-
     private int coming(int n) {
         return Math.max(0, Math.min(n, LAST_PERIOD - book.period));
     }
 
     /** The spare book, as the ledger will be AS IT GOES: the ledger itself stays. */
     private Book bookIn(int n) {
-        Book ahead = spareBook();
-        ahead.copyFrom(book);
+        spare.copyFrom(book);
         int coming = coming(n);
         for (int i = 0; i < coming; i++) {
-            ahead.periodGoesBy();
+            spare.periodGoesBy();
         }
-        return ahead;
+        return spare;
     }
 
     private void remember() {
-        int at = (pastFirst + pastCount) % MOST_UNDONE;
-        if (past[at] == null) {
-            past[at] = new Book();
-        }
-        past[at].copyFrom(book);
+        past[(pastFirst + pastCount) % MOST_UNDONE].copyFrom(book);
         if (pastCount < MOST_UNDONE) {
             pastCount++;
         } else {
@@ -720,7 +700,7 @@ public final class LeaseLedger {
         }
     }
 
-    /** Reads a TEXT into a cleared book; behind the first fault nothing more is taken. */
+    /** Reads a TEXT into a cleared book; behind the first fault nothing more is taken. It keeps the fault. */
     private static final class Reader {
         static final int END = 0;
         static final int WORD = 1;
@@ -743,8 +723,8 @@ public final class LeaseLedger {
         static final int HUGE = 100000000;
 
         final byte[] bytes;
-        final int length;
-        final Book book;
+        int length;
+        Book book;
         /** Bits of each lease: what was told of it and may not be told again. */
         final int[] toldOf = new int[MOST_LEASES];
         int next;
@@ -757,10 +737,21 @@ public final class LeaseLedger {
         int fault;
         int place = NONE;
 
-        Reader(byte[] bytes, int length, Book book) {
+        Reader(byte[] bytes, Book book) {
             this.bytes = bytes;
-            this.length = Math.min(length, bytes.length);
             this.book = book;
+        }
+
+        void begin(int n, Book cleared) {
+            length = Math.min(n, bytes.length);
+            book = cleared;
+            Arrays.fill(toldOf, 0);
+            next = 0;
+            pays = 0;
+            seedTold = false;
+            lines = 0;
+            fault = 0;
+            place = NONE;
         }
 
         void read() {
@@ -1113,7 +1104,7 @@ public final class LeaseLedger {
 
         long worthFrom(int first, int r) {
             long worth = 0;
-            for (int i = term - 1; i >= first && i >= 0; i--) {
+            for (int i = Math.min(term, MOST_TERM) - 1; i >= first && i >= 0; i--) {
                 worth = worthWith(worth, due[i], r);
             }
             return worth;
