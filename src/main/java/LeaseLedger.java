@@ -70,6 +70,9 @@ public final class LeaseLedger {
     private final Book[] past = new Book[MOST_UNDONE];
     private int pastFirst;
     private int pastCount;
+    private final Amount first = new Amount();
+    private final Amount second = new Amount();
+    private final Amount third = new Amount();
 
     /** All rows are made here and used again: no call makes one, however many calls a run has. */
     public LeaseLedger() {
@@ -102,7 +105,7 @@ public final class LeaseLedger {
         if (reader.fault != 0) {
             return NONE;
         }
-        fresh.findRates();
+        fresh.findRates(first);
         spare = book;
         book = fresh;
         imageKept = false;
@@ -160,7 +163,7 @@ public final class LeaseLedger {
         if (x == null || what < 0 || what > 1) {
             return NONE;
         }
-        return what == 0 ? x.owed : x.used;
+        return (what == 0 ? x.owed : x.used).asLong();
     }
 
     public long due(int lease, int k) {
@@ -168,7 +171,8 @@ public final class LeaseLedger {
         if (x == null || !x.owns(k)) {
             return NONE;
         }
-        return x.due[k - 1];
+        x.due.copyTo(k - 1, first);
+        return first.asLong();
     }
 
     public long worth(int lease, int k, int rate) {
@@ -176,7 +180,8 @@ public final class LeaseLedger {
         if (x == null || !x.owns(k) || rate < 0 || rate > MOST_ASKED_RATE) {
             return NONE;
         }
-        return x.worthFrom(k - 1, rate);
+        x.worthFrom(k - 1, rate, first);
+        return first.asLong();
     }
 
     public int index(int period) {
@@ -240,7 +245,7 @@ public final class LeaseLedger {
             return NO_AMOUNT;
         }
         remember();
-        long gain = book.giveBack(lease, x, x.partOf(x.owed, p), x.partOf(x.used, p), SORT_PART);
+        long gain = book.giveBack(lease, x, p, SORT_PART);
         x.keepPart(THOUSAND - p);
         return gain;
     }
@@ -252,17 +257,17 @@ public final class LeaseLedger {
         }
         remember();
         x.stage = ENDED;
-        return book.giveBack(lease, x, x.owed, x.used, SORT_ENDED);
+        return book.giveBack(lease, x, THOUSAND, SORT_ENDED);
     }
 
     public long down(int lease, long v) {
         Lease x = runningAt(lease);
-        if (x == null || v < 1 || v > x.used) {
+        if (x == null || v < 1 || !x.used.isAtLeast(v)) {
             return NO_AMOUNT;
         }
         remember();
         book.writeDown(lease, x, v);
-        return x.used;
+        return x.used.asLong();
     }
 
     public long putOff(int lease, int k, int j) {
@@ -292,8 +297,8 @@ public final class LeaseLedger {
         }
         Lease then = bookIn(n).leases[lease];
         switch (what) {
-            case 0: return then.owed;
-            case 1: return then.used;
+            case 0: return then.owed.asLong();
+            case 1: return then.used.asLong();
             case 2: return then.moved[MOVED_PAID] - x.moved[MOVED_PAID];
             default: return then.moved[MOVED_INTEREST] - x.moved[MOVED_INTEREST];
         }
@@ -303,7 +308,8 @@ public final class LeaseLedger {
         if (n < 0 || n > MOST_AHEAD) {
             return NONE;
         }
-        return bookIn(n).allOwed();
+        bookIn(n).countAllOwed(first);
+        return first.asLong();
     }
 
     public long soon(int lease, int what) {
@@ -311,8 +317,8 @@ public final class LeaseLedger {
         if (x == null || what < 0 || what > 1) {
             return NONE;
         }
-        long then = bookIn(YEAR).leases[lease].owed;
-        return what == 0 ? x.owed - then : then;
+        long then = bookIn(YEAR).leases[lease].owed.asLong();
+        return what == 0 ? x.owed.asLong() - then : then;
     }
 
     public long sum(int account, int sort) {
@@ -346,8 +352,10 @@ public final class LeaseLedger {
             return REFUSED;
         }
         Lease trial = spare.leases[0];
+        Amount owed = first;
+        Amount bestOwed = second;
+        bestOwed.copyFrom(x.owed);
         int best = 0;
-        long bestOwed = x.owed;
         int bestLeft = x.left();
         for (int set = 1; set < 1 << MOST_OPTIONS; set++) {
             if (!book.canTakeSet(lease, set)) {
@@ -355,10 +363,10 @@ public final class LeaseLedger {
             }
             trial.copyFrom(x);
             book.goOnBySet(trial, set);
-            long owed = trial.worthLeft();
-            if (owed * bestLeft < bestOwed * trial.left()) {
+            trial.worthLeft(owed);
+            if (bestOwed.isGreaterShare(bestLeft, owed, trial.left())) {
                 best = set;
-                bestOwed = owed;
+                bestOwed.copyFrom(owed);
                 bestLeft = trial.left();
             }
         }
@@ -370,22 +378,22 @@ public final class LeaseLedger {
         if (x == null) {
             return NONE;
         }
-        long far = 0;
-        long together = 0;
+        Amount far = first;
+        Amount together = second;
+        far.set(0L);
+        together.set(0L);
         int off = x.stage == WAITING ? x.start - book.period : 0;
         for (int i = x.term - x.left(); i < x.term; i++) {
-            far += x.due[i] * off;
-            together += x.due[i];
+            x.due.copyTo(i, third);
+            together.add(third);
+            third.times(off);
+            far.add(third);
             off++;
         }
-        if (together == 0) {
+        if (together.isZero()) {
             return REFUSED;
         }
-        long common = commonDivisor(far, together);
-        if (common == 0) {
-            return REFUSED;
-        }
-        return (under ? together : far) / common;
+        return leastTerm(far, together, under);
     }
 
     public long peak(int what) {
@@ -394,19 +402,20 @@ public final class LeaseLedger {
         }
         Book ahead = bookIn(0);
         int coming = coming(MOST_AHEAD);
-        long most = 0;
+        Amount most = first;
+        most.set(0L);
         int when = 0;
         for (int i = 0; i < coming; i++) {
-            long paid = ahead.periodPays();
-            if (paid > most) {
-                most = paid;
+            ahead.periodGoesBy();
+            if (ahead.paid.isAbove(most)) {
+                most.copyFrom(ahead.paid);
                 when = i;
             }
         }
-        if (most == 0) {
+        if (most.isZero()) {
             return REFUSED;
         }
-        return what == 0 ? when : most;
+        return what == 0 ? when : most.asLong();
     }
 
     public int partFor(int lease, long g) {
@@ -418,7 +427,12 @@ public final class LeaseLedger {
             return REFUSED;
         }
         for (int p = 1; p <= 999; p++) {
-            if (x.partOf(x.owed, p) - x.partOf(x.used, p) >= g) {
+            first.copyFrom(x.owed);
+            first.shareDown(p, THOUSAND);
+            second.copyFrom(x.used);
+            second.shareDown(p, THOUSAND);
+            first.subtract(second);
+            if (first.isAtLeast(g)) {
                 return p;
             }
         }
@@ -443,15 +457,15 @@ public final class LeaseLedger {
         if (x == null || x.stage == WAITING) {
             return NONE;
         }
-        if (x.owed == 0) {
+        if (x.owed.isZero()) {
             return 0;
         }
         Book ahead = bookIn(0);
         int coming = coming(MOST_AHEAD);
         for (int i = 1; i <= coming; i++) {
             ahead.periodGoesBy();
-            // Twice the amount, so that half of an odd one isn't rounded.
-            if (ahead.leases[lease].owed * 2 <= x.owed) {
+            // As shares, so that half of an odd amount isn't rounded.
+            if (!ahead.leases[lease].owed.isGreaterShare(1, x.owed, 2)) {
                 return i;
             }
         }
@@ -466,9 +480,9 @@ public final class LeaseLedger {
         int coming = coming(j + 1);
         long together = 0;
         for (int at = 0; at < coming; at++) {
-            long paid = ahead.periodPays();
+            ahead.periodGoesBy();
             if (at >= i) {
-                together += paid;
+                together += ahead.paid.asLong();
             }
         }
         return together;
@@ -483,12 +497,13 @@ public final class LeaseLedger {
             return REFUSED;
         }
         if (!x.tied) {
-            return x.owed;
+            return x.owed.asLong();
         }
         Lease trial = spare.leases[0];
         trial.copyFrom(x);
         trial.followIndex(v);
-        return trial.worthLeft();
+        trial.worthLeft(first);
+        return first.asLong();
     }
 
     public long ifTaken(int option) {
@@ -500,7 +515,8 @@ public final class LeaseLedger {
         Lease trial = spare.leases[0];
         trial.copyFrom(x);
         book.goOnByOption(trial, o);
-        return trial.worthLeft() - x.owed;
+        trial.worthLeft(first);
+        return first.asLong() - x.owed.asLong();
     }
 
     public int yields(int lease, int k, long w) {
@@ -508,7 +524,7 @@ public final class LeaseLedger {
         if (x == null || !x.owns(k) || !isWorth(w)) {
             return NONE;
         }
-        return x.greatestRate(k - 1, w);
+        return x.greatestRate(k - 1, w, first);
     }
 
     public int level(int lease, long w) {
@@ -516,21 +532,23 @@ public final class LeaseLedger {
         if (x == null || !isWorth(w)) {
             return NONE;
         }
-        return x.leastLevel(w);
+        Lease trial = spare.leases[0];
+        trial.copyFrom(x);
+        return trial.leastLevel(w, first);
     }
 
     public int heaviest() {
         int best = REFUSED;
-        long bestOwed = 0;
-        long bestLeft = 1;
+        Amount bestOwed = first;
+        int bestLeft = 1;
         for (int i = 0; i < book.leaseCount; i++) {
             Lease x = book.leases[i];
             if (x.stage != RUNNING) {
                 continue;
             }
-            if (best == REFUSED || x.owed * bestLeft > bestOwed * x.left()) {
+            if (best == REFUSED || x.owed.isGreaterShare(x.left(), bestOwed, bestLeft)) {
                 best = i;
-                bestOwed = x.owed;
+                bestOwed.copyFrom(x.owed);
                 bestLeft = x.left();
             }
         }
@@ -545,21 +563,26 @@ public final class LeaseLedger {
             return REFUSED;
         }
         long last = seed == -1 ? book.seed : seed;
+        Amount owed = first;
+        Amount greatest = second;
+        Amount least = third;
         long together = 0;
-        long greatest = 0;
-        long least = 0;
         for (int i = 0; i < n; i++) {
             Book ahead = bookIn(0);
             last = ahead.yearByChance(last);
-            long owed = ahead.allOwed();
-            together += owed;
-            greatest = i == 0 ? owed : Math.max(greatest, owed);
-            least = i == 0 ? owed : Math.min(least, owed);
+            ahead.countAllOwed(owed);
+            together += owed.asLong();
+            if (i == 0 || owed.isAbove(greatest)) {
+                greatest.copyFrom(owed);
+            }
+            if (i == 0 || least.isAbove(owed)) {
+                least.copyFrom(owed);
+            }
         }
         switch (what) {
             case 0: return together;
-            case 1: return greatest;
-            default: return least;
+            case 1: return greatest.asLong();
+            default: return least.asLong();
         }
     }
 
@@ -657,31 +680,24 @@ public final class LeaseLedger {
         return w >= 1 && w <= MOST_WORTH;
     }
 
-    private static long commonDivisor(long a, long b) {
-        long x = a;
-        long y = b;
-        for (int i = 0; i < 200 && y != 0; i++) {
-            long rest = x % y;
+    /**
+     * The upper or lower number of a fraction in least terms: Euclid's steps (they use the amounts up), built
+     * up again from 1 and 0. So the answer is whole if a long holds it, whatever the amounts are.
+     */
+    private static long leastTerm(Amount upper, Amount lower, boolean under) {
+        Amount x = upper;
+        Amount y = lower;
+        long ahead = under ? 1 : 0;
+        long term = under ? 0 : 1;
+        for (int i = 0; i < 200 && !y.isZero(); i++) {
+            long next = x.takeOut(y) * term + ahead;
+            ahead = term;
+            term = next;
+            Amount rest = x;
             x = y;
             y = rest;
         }
-        return x;
-    }
-
-    /** x times up by under, downwards; taken apart so that only the answer itself must fit a long. */
-    private static long shareDown(long x, long up, long under) {
-        if (under <= 0) {
-            return 0;
-        }
-        return x / under * up + x % under * up / under;
-    }
-
-    /** x times up by under, ROUNDED. */
-    private static long shareRounded(long x, long up, long under) {
-        if (under <= 0) {
-            return 0;
-        }
-        return x / under * up + (x % under * up * 2 + under) / (under * 2);
+        return term;
     }
 
     /** The words of the language, each with its letters as named() takes them. */
@@ -1020,6 +1036,212 @@ public final class LeaseLedger {
         }
     }
 
+    /**
+     * A whole number: high times 2 to the 42, and low, which is 0 or more and less than that. extend() and
+     * putOff() in turn double DUE beyond a long; TERM keeps it below 2 to the 94, all sums below 2 to the 104.
+     */
+    private static final class Amount {
+        static final int LOW_BITS = 42;
+        static final int ALL_BITS = 105;
+        static final long LOW_MASK = 4398046511103L;
+
+        long high;
+        long low;
+
+        void set(long v) {
+            high = v >> LOW_BITS;
+            low = v & LOW_MASK;
+        }
+
+        void copyFrom(Amount other) {
+            high = other.high;
+            low = other.low;
+        }
+
+        /** The lowest 64 bits: all of it, if a long holds it. */
+        long asLong() {
+            return (high << LOW_BITS) + low;
+        }
+
+        boolean isZero() {
+            return high == 0 && low == 0;
+        }
+
+        boolean isAtLeast(long v) {
+            long itsHigh = v >> LOW_BITS;
+            return high > itsHigh || high == itsHigh && low >= (v & LOW_MASK);
+        }
+
+        boolean isAbove(Amount other) {
+            return isGreaterShare(1, other, 1);
+        }
+
+        /** Whether this by n is more than the other one by m (fractions; n and m 1 .. 72). */
+        boolean isGreaterShare(int n, Amount other, int m) {
+            long itsLow = low * m;
+            long itsHigh = high * m + (itsLow >> LOW_BITS);
+            long otherLow = other.low * n;
+            long otherHigh = other.high * n + (otherLow >> LOW_BITS);
+            return itsHigh > otherHigh
+                || itsHigh == otherHigh && (itsLow & LOW_MASK) > (otherLow & LOW_MASK);
+        }
+
+        void holdToZero() {
+            if (high < 0) {
+                set(0L);
+            }
+        }
+
+        void addLong(long v) {
+            low += v & LOW_MASK;
+            high += (v >> LOW_BITS) + (low >> LOW_BITS);
+            low &= LOW_MASK;
+        }
+
+        void add(Amount other) {
+            low += other.low;
+            high += other.high + (low >> LOW_BITS);
+            low &= LOW_MASK;
+        }
+
+        void subtract(Amount other) {
+            low -= other.low;
+            high += (low >> LOW_BITS) - other.high;
+            low &= LOW_MASK;
+        }
+
+        /** Times n 0 .. 1200000. */
+        void times(long n) {
+            low *= n;
+            high = high * n + (low >> LOW_BITS);
+            low &= LOW_MASK;
+        }
+
+        /** Times up by under, downwards (of 0 or more; up 0 .. 1200000, under 1 .. 2000000). */
+        void shareDown(long up, long under) {
+            share(up, under, 0L);
+        }
+
+        void shareRounded(long up, long under) {
+            share(up, under, under / 2);
+        }
+
+        void share(long up, long under, long more) {
+            if (under <= 0) {
+                return;
+            }
+            if (high == 0) {
+                set((low * up + more) / under);
+                return;
+            }
+            // Divided ahead of the times, so that nothing on the way is beyond what comes of it.
+            long rest = (high % under << LOW_BITS) + low;
+            high /= under;
+            low = rest / under;
+            times(up);
+            addLong((rest % under * up + more) / under);
+        }
+
+        /** Takes the other one (1 or more) out as often as it goes, bit by bit: how often. */
+        long takeOut(Amount other) {
+            long often = 0;
+            if (high == 0 && other.high == 0 && other.low > 0) {
+                often = low / other.low;
+                low %= other.low;
+                return often;
+            }
+            long restHigh = 0;
+            long restLow = 0;
+            for (int bit = ALL_BITS - 1; bit >= 0; bit--) {
+                long one = (bit >= LOW_BITS ? high >> bit - LOW_BITS : low >> bit) & 1;
+                restLow = restLow * 2 + one;
+                restHigh = restHigh * 2 + (restLow >> LOW_BITS);
+                restLow &= LOW_MASK;
+                often *= 2;
+                if (restHigh > other.high || restHigh == other.high && restLow >= other.low) {
+                    restLow -= other.low;
+                    restHigh += (restLow >> LOW_BITS) - other.high;
+                    restLow &= LOW_MASK;
+                    often++;
+                }
+            }
+            high = restHigh;
+            low = restLow;
+            return often;
+        }
+    }
+
+    /** Amounts of own periods, each in the two parts of an Amount. */
+    private static final class Row {
+        final long[] highs = new long[MOST_TERM];
+        final long[] lows = new long[MOST_TERM];
+        final Amount held = new Amount();
+
+        void copyFrom(Row other) {
+            System.arraycopy(other.highs, 0, highs, 0, MOST_TERM);
+            System.arraycopy(other.lows, 0, lows, 0, MOST_TERM);
+        }
+
+        void fill(int n, long v) {
+            int behind = Math.max(0, Math.min(n, MOST_TERM));
+            held.set(v);
+            Arrays.fill(highs, 0, behind, held.high);
+            Arrays.fill(lows, 0, behind, held.low);
+        }
+
+        void copyTo(int i, Amount x) {
+            boolean has = i >= 0 && i < MOST_TERM;
+            x.high = has ? highs[i] : 0;
+            x.low = has ? lows[i] : 0;
+        }
+
+        void addTo(int i, Amount x) {
+            if (i >= 0 && i < MOST_TERM) {
+                x.low += lows[i];
+                x.high += highs[i] + (x.low >> Amount.LOW_BITS);
+                x.low &= Amount.LOW_MASK;
+            }
+        }
+
+        void put(int i, Amount x) {
+            if (i >= 0 && i < MOST_TERM) {
+                highs[i] = x.high;
+                lows[i] = x.low;
+            }
+        }
+
+        void setAt(int i, long v) {
+            held.set(v);
+            put(i, held);
+        }
+
+        void addAt(int i, long v) {
+            copyTo(i, held);
+            held.addLong(v);
+            put(i, held);
+        }
+
+        void repeat(int i) {
+            copyTo(i, held);
+            put(i + 1, held);
+        }
+
+        void move(int from, int to) {
+            copyTo(from, held);
+            addTo(to, held);
+            put(to, held);
+            setAt(from, 0L);
+        }
+
+        void shareDownOf(Row other, int from, int behind, long up, long under) {
+            for (int i = from; i < behind; i++) {
+                other.copyTo(i, held);
+                held.shareDown(up, under);
+                put(i, held);
+            }
+        }
+    }
+
     /** One LEASE; own period k is at k - 1 of its rows. */
     private static final class Lease {
         int name;
@@ -1035,11 +1257,12 @@ public final class LeaseLedger {
         boolean found;
         boolean early;
         boolean tied;
-        long owed;
-        long used;
+        final Amount owed = new Amount();
+        final Amount used = new Amount();
+        final Row due = new Row();
+        final Row setting = new Row();
+        // Only added up, so what a long holds of them is enough.
         final long[] moved = new long[MOVED];
-        final long[] due = new long[MOST_TERM];
-        final long[] setting = new long[MOST_TERM];
 
         void tell(int itsName, int begins, int periods, int itsRate) {
             name = itsName;
@@ -1055,11 +1278,11 @@ public final class LeaseLedger {
             found = false;
             early = false;
             tied = false;
-            owed = 0;
-            used = 0;
+            owed.set(0L);
+            used.set(0L);
+            due.fill(MOST_TERM, 0L);
+            setting.fill(MOST_TERM, 0L);
             Arrays.fill(moved, 0L);
-            Arrays.fill(due, 0L);
-            Arrays.fill(setting, 0L);
         }
 
         void copyFrom(Lease other) {
@@ -1076,11 +1299,11 @@ public final class LeaseLedger {
             found = other.found;
             early = other.early;
             tied = other.tied;
-            owed = other.owed;
-            used = other.used;
+            owed.copyFrom(other.owed);
+            used.copyFrom(other.used);
+            due.copyFrom(other.due);
+            setting.copyFrom(other.setting);
             System.arraycopy(other.moved, 0, moved, 0, MOVED);
-            System.arraycopy(other.due, 0, due, 0, MOST_TERM);
-            System.arraycopy(other.setting, 0, setting, 0, MOST_TERM);
         }
 
         boolean owns(int k) {
@@ -1091,57 +1314,43 @@ public final class LeaseLedger {
             return stage == ENDED ? 0 : term - gone;
         }
 
-        void payMore(int first, int last, int each) {
-            for (int i = first; i <= last && i < MOST_TERM; i++) {
-                due[i] += each;
-                setting[i] += each;
+        void payMore(int from, int to, int each) {
+            for (int i = from; i <= to; i++) {
+                due.addAt(i, each);
+                setting.addAt(i, each);
             }
         }
 
-        long worthLeft() {
-            return worthFrom(gone, rate);
+        void worthLeft(Amount worth) {
+            worthFrom(gone, rate, worth);
         }
 
-        long worthFrom(int first, int r) {
-            long worth = 0;
-            for (int i = Math.min(term, MOST_TERM) - 1; i >= first && i >= 0; i--) {
-                worth = worthWith(worth, due[i], r);
-            }
-            return worth;
-        }
-
-        long worthOfLevel(long each) {
-            long worth = 0;
-            for (int i = 0; i < term; i++) {
-                worth = worthWith(worth, each, rate);
-            }
-            return worth;
-        }
-
-        long worthWith(long behind, long paid, int r) {
+        void worthFrom(int from, int r, Amount worth) {
             long grown = MILLION + r;
-            return early ? paid + shareRounded(behind, MILLION, grown)
-                : shareRounded(behind + paid, MILLION, grown);
-        }
-
-        long interestOn(long x) {
-            return shareRounded(x, rate, MILLION);
-        }
-
-        long partOf(long x, int p) {
-            return shareDown(x, p, THOUSAND);
+            worth.set(0L);
+            for (int i = Math.min(term, MOST_TERM) - 1; i >= from && i >= 0; i--) {
+                if (!early) {
+                    due.addTo(i, worth);
+                }
+                worth.shareRounded(MILLION, grown);
+                if (early) {
+                    due.addTo(i, worth);
+                }
+            }
         }
 
         /** WORTH is never more by a greater rate, so halving the span finds the greatest one. */
-        int greatestRate(int first, long w) {
-            if (worthFrom(first, 0) < w) {
+        int greatestRate(int from, long w, Amount worth) {
+            worthFrom(from, 0, worth);
+            if (!worth.isAtLeast(w)) {
                 return REFUSED;
             }
             int low = 0;
             int high = MOST_RATE;
             for (int i = 0; i < 32 && low < high; i++) {
                 int middle = (low + high + 1) / 2;
-                if (worthFrom(first, middle) >= w) {
+                worthFrom(from, middle, worth);
+                if (worth.isAtLeast(w)) {
                     low = middle;
                 } else {
                     high = middle - 1;
@@ -1150,16 +1359,18 @@ public final class LeaseLedger {
             return low;
         }
 
-        /** WORTH is never less by a greater amount, so halving the span finds the least one. */
-        int leastLevel(long w) {
-            if (worthOfLevel(MOST_LEVEL) < w) {
+        /** WORTH is never less by a greater amount, so halving the span finds the least one; DUE is used up. */
+        int leastLevel(long w, Amount worth) {
+            worthOfLevel(MOST_LEVEL, worth);
+            if (!worth.isAtLeast(w)) {
                 return REFUSED;
             }
             int low = 0;
             int high = MOST_LEVEL;
             for (int i = 0; i < 32 && low < high; i++) {
                 int middle = (low + high) / 2;
-                if (worthOfLevel(middle) >= w) {
+                worthOfLevel(middle, worth);
+                if (worth.isAtLeast(w)) {
                     high = middle;
                 } else {
                     low = middle + 1;
@@ -1168,51 +1379,57 @@ public final class LeaseLedger {
             return low;
         }
 
+        void worthOfLevel(int each, Amount worth) {
+            due.fill(term, each);
+            worthFrom(0, rate, worth);
+        }
+
         void followIndex(int index) {
             indexed = index;
-            for (int i = gone; i < term && i < MOST_TERM; i++) {
-                due[i] = shareDown(setting[i], index, base);
-            }
+            due.shareDownOf(setting, gone, term, index, base);
         }
 
         void goOnAsLast(int n) {
-            if (owns(term)) {
-                goOn(n, due[term - 1], setting[term - 1]);
+            for (int i = 0; i < n && owns(term) && term < MOST_TERM; i++) {
+                due.repeat(term - 1);
+                setting.repeat(term - 1);
+                term++;
             }
         }
 
-        void goOn(int n, long itsDue, long itsSetting) {
+        void goOn(int n, long each) {
             for (int i = 0; i < n && term < MOST_TERM; i++) {
-                due[term] = itsDue;
-                setting[term] = itsSetting;
+                due.setAt(term, each);
+                setting.setAt(term, each);
                 term++;
             }
         }
 
         void keepPart(long ofThousand) {
-            for (int i = gone; i < term && i < MOST_TERM; i++) {
-                due[i] = shareDown(due[i], ofThousand, THOUSAND);
-                setting[i] = shareDown(setting[i], ofThousand, THOUSAND);
-            }
+            due.shareDownOf(due, gone, term, ofThousand, THOUSAND);
+            setting.shareDownOf(setting, gone, term, ofThousand, THOUSAND);
         }
 
         void movePayment(int from, int to) {
-            due[to] += due[from];
-            setting[to] += setting[from];
-            due[from] = 0;
-            setting[from] = 0;
+            due.move(from, to);
+            setting.move(from, to);
         }
 
         /** What is OWED behind the own period that goes by. */
-        long owedThen(long paid) {
+        void owedBehind(Amount paid, Amount behind) {
             if (left() <= 1) {
-                return 0;
+                behind.set(0L);
+                return;
             }
+            behind.copyFrom(owed);
+            if (!early) {
+                behind.shareRounded(MILLION + rate, MILLION);
+            }
+            behind.subtract(paid);
+            behind.holdToZero();
             if (early) {
-                long rest = Math.max(0L, owed - paid);
-                return rest + interestOn(rest);
+                behind.shareRounded(MILLION + rate, MILLION);
             }
-            return Math.max(0L, owed + interestOn(owed) - paid);
         }
     }
 
@@ -1287,6 +1504,10 @@ public final class LeaseLedger {
         final int[] indexes = new int[LAST_PERIOD + 1];
         final int[] toldPeriods = new int[MOST_INDEXES];
         final Journal journal = new Journal();
+        // What was paid in the PERIOD that went by last; the other two are for use on the way.
+        final Amount paid = new Amount();
+        final Amount held = new Amount();
+        final Amount then = new Amount();
         int leaseCount;
         int optionCount;
         int toldCount;
@@ -1369,10 +1590,10 @@ public final class LeaseLedger {
             return NONE;
         }
 
-        void findRates() {
+        void findRates(Amount worth) {
             for (int i = 0; i < leaseCount; i++) {
                 Lease x = leases[i];
-                int rate = x.fair > 0 ? x.greatestRate(0, x.fair) : REFUSED;
+                int rate = x.fair > 0 ? x.greatestRate(0, x.fair, worth) : REFUSED;
                 if (rate >= 0) {
                     x.rate = rate;
                     x.found = true;
@@ -1390,20 +1611,11 @@ public final class LeaseLedger {
             return running;
         }
 
-        long allOwed() {
-            long together = 0;
+        void countAllOwed(Amount together) {
+            together.set(0L);
             for (int i = 0; i < leaseCount; i++) {
-                together += leases[i].owed;
+                together.add(leases[i].owed);
             }
-            return together;
-        }
-
-        long allPaid() {
-            long together = 0;
-            for (int i = 0; i < leaseCount; i++) {
-                together += leases[i].moved[MOVED_PAID];
-            }
-            return together;
         }
 
         int indexNow() {
@@ -1420,14 +1632,8 @@ public final class LeaseLedger {
             }
         }
 
-        /** A PERIOD goes by: what is paid in it. */
-        long periodPays() {
-            long ahead = allPaid();
-            periodGoesBy();
-            return allPaid() - ahead;
-        }
-
         void periodGoesBy() {
+            paid.set(0L);
             if (period >= LAST_PERIOD) {
                 return;
             }
@@ -1450,35 +1656,41 @@ public final class LeaseLedger {
             x.stage = RUNNING;
             x.base = indexNow();
             x.indexed = x.base;
-            x.owed = x.worthFrom(0, x.rate);
-            x.used = x.owed + x.fee;
-            x.moved[MOVED_BEGUN] = x.owed;
+            x.worthFrom(0, x.rate, x.owed);
+            x.used.copyFrom(x.owed);
+            x.used.addLong(x.fee);
+            x.moved[MOVED_BEGUN] = x.owed.asLong();
             journal.open(SORT_BEGUN, period, lease);
-            journal.put(USED, x.used);
-            journal.put(OWED, -x.owed);
+            journal.put(USED, x.used.asLong());
+            journal.put(OWED, -x.owed.asLong());
             journal.put(CASH, -x.fee);
         }
 
         void payAndWriteOff(int lease, Lease x) {
             int left = x.left();
-            if (left < 1 || x.gone < 0 || x.gone >= MOST_TERM) {
+            if (left < 1) {
                 return;
             }
-            long paid = x.due[x.gone];
-            long owedThen = x.owedThen(paid);
+            x.due.copyTo(x.gone, held);
+            paid.add(held);
+            x.owedBehind(held, then);
+            long cash = held.asLong();
+            long owedLess = x.owed.asLong() - then.asLong();
             // One sum serves all cases: what the payment takes beyond OWED is INTEREST.
-            long interest = owedThen - x.owed + paid;
-            long writtenOff = x.used / left;
+            long interest = cash - owedLess;
+            x.owed.copyFrom(then);
+            then.copyFrom(x.used);
+            then.shareDown(1, left);
+            long writtenOff = then.asLong();
+            x.used.subtract(then);
             journal.open(SORT_PERIOD, period, lease);
-            journal.put(CASH, -paid);
-            journal.put(OWED, x.owed - owedThen);
+            journal.put(CASH, -cash);
+            journal.put(OWED, owedLess);
             journal.put(USED, -writtenOff);
             journal.put(INTEREST, interest);
             journal.put(WRITTEN_OFF, writtenOff);
-            x.owed = owedThen;
-            x.used -= writtenOff;
             x.moved[MOVED_INTEREST] += interest;
-            x.moved[MOVED_PAID] += paid;
+            x.moved[MOVED_PAID] += cash;
             x.gone++;
             if (x.gone >= x.term) {
                 x.stage = ENDED;
@@ -1487,34 +1699,43 @@ public final class LeaseLedger {
 
         /** RE-MEASURED: by how much OWED is more then. */
         long remeasure(int lease, Lease x) {
-            long owedThen = x.worthFrom(x.gone, x.rate);
-            long more = owedThen - x.owed;
-            long usedThen = Math.max(0L, x.used + more);
+            x.worthFrom(x.gone, x.rate, then);
+            long more = then.asLong() - x.owed.asLong();
+            long usedMore = -x.used.asLong();
+            x.used.add(then);
+            x.used.subtract(x.owed);
+            x.used.holdToZero();
+            usedMore += x.used.asLong();
+            x.owed.copyFrom(then);
             journal.open(SORT_MEASURED, period, lease);
             journal.put(OWED, -more);
-            journal.put(USED, usedThen - x.used);
-            journal.put(GAIN, more - (usedThen - x.used));
-            x.owed = owedThen;
-            x.used = usedThen;
+            journal.put(USED, usedMore);
+            journal.put(GAIN, more - usedMore);
             x.moved[MOVED_MEASURED] += more;
             return more;
         }
 
-        /** OWED and USED are less by so much: the GAIN of it. */
-        long giveBack(int lease, Lease x, long owedLess, long usedLess, int sort) {
+        /** OWED and USED are less by so much of a thousand (ENDED: by all): the GAIN of it. */
+        long giveBack(int lease, Lease x, long ofThousand, int sort) {
+            then.copyFrom(x.owed);
+            then.shareDown(ofThousand, THOUSAND);
+            x.owed.subtract(then);
+            long owedLess = then.asLong();
+            then.copyFrom(x.used);
+            then.shareDown(ofThousand, THOUSAND);
+            x.used.subtract(then);
+            long usedLess = then.asLong();
             long gain = owedLess - usedLess;
             journal.open(sort, period, lease);
             journal.put(OWED, owedLess);
             journal.put(USED, -usedLess);
             journal.put(GAIN, -gain);
-            x.owed -= owedLess;
-            x.used -= usedLess;
             x.moved[MOVED_LESS] += owedLess;
             return gain;
         }
 
         void writeDown(int lease, Lease x, long v) {
-            x.used -= v;
+            x.used.addLong(-v);
             journal.open(SORT_DOWN, period, lease);
             journal.put(USED, -v);
             journal.put(GAIN, v);
@@ -1552,7 +1773,7 @@ public final class LeaseLedger {
         }
 
         void goOnByOption(Lease x, Option o) {
-            x.goOn(o.more, o.each, o.each);
+            x.goOn(o.more, o.each);
             if (x.tied) {
                 x.followIndex(indexNow());
             }

@@ -17,6 +17,7 @@ import java.util.TreeMap;
  */
 final class Model {
     static final long NO = Long.MIN_VALUE;
+    static final BigInteger ZERO = BigInteger.ZERO;
     static final Set<String> LANGUAGE =
         Set.of("lease", "pay", "early", "fair", "fee", "tied", "index", "option", "seed");
 
@@ -35,15 +36,15 @@ final class Model {
         int base;
         int indexed;
         int gone;
-        long owed;
-        long used;
-        long began;
-        long interest;
-        long paid;
-        long measured;
-        long less;
-        TreeMap<Integer, Long> due = new TreeMap<>();
-        TreeMap<Integer, Long> setting = new TreeMap<>();
+        BigInteger owed = ZERO;
+        BigInteger used = ZERO;
+        BigInteger began = ZERO;
+        BigInteger interest = ZERO;
+        BigInteger paid = ZERO;
+        BigInteger measured = ZERO;
+        BigInteger less = ZERO;
+        TreeMap<Integer, BigInteger> due = new TreeMap<>();
+        TreeMap<Integer, BigInteger> setting = new TreeMap<>();
 
         L copy() {
             L c = new L();
@@ -77,21 +78,29 @@ final class Model {
             return begun && !ended;
         }
 
-        long due(int k) {
-            return due.getOrDefault(k, 0L);
+        BigInteger due(int k) {
+            return due.getOrDefault(k, ZERO);
         }
 
-        long setting(int k) {
-            return setting.getOrDefault(k, 0L);
+        BigInteger setting(int k) {
+            return setting.getOrDefault(k, ZERO);
         }
 
-        long worth(int k, long r) {
-            if (k > term) {
-                return 0;
+        BigInteger allDue() {
+            BigInteger s = ZERO;
+            for (int k = 1; k <= term; k++) {
+                s = s.add(due(k));
             }
-            long behind = worth(k + 1, r);
-            return early ? due(k) + rounded(behind, 1000000, 1000000 + r)
-                : rounded(behind + due(k), 1000000, 1000000 + r);
+            return s;
+        }
+
+        BigInteger worth(int k, long r) {
+            if (k > term) {
+                return ZERO;
+            }
+            BigInteger behind = worth(k + 1, r);
+            return early ? due(k).add(rounded(behind, 1000000, 1000000 + r))
+                : rounded(behind.add(due(k)), 1000000, 1000000 + r);
         }
 
         void index(int v) {
@@ -101,7 +110,7 @@ final class Model {
             }
         }
 
-        void more(int n, long d, long s) {
+        void more(int n, BigInteger d, BigInteger s) {
             for (int i = 0; i < n; i++) {
                 term++;
                 due.put(term, d);
@@ -126,7 +135,7 @@ final class Model {
         }
     }
 
-    record Entry(int sort, int period, int lease, long[] amounts) {
+    record Entry(int sort, int period, int lease, BigInteger[] amounts) {
     }
 
     static final class State {
@@ -158,31 +167,31 @@ final class Model {
             return c;
         }
 
-        void enter(int sort, int lease, long... amounts) {
-            long together = 0;
-            for (long a : amounts) {
-                together += a;
+        void enter(int sort, int lease, BigInteger... amounts) {
+            BigInteger together = ZERO;
+            for (BigInteger a : amounts) {
+                together = together.add(a);
             }
-            if (together != 0) {
+            if (together.signum() != 0 || amounts.length != 6) {
                 throw new AssertionError("an entry that does not balance");
             }
             entries.add(new Entry(sort, period, lease, amounts));
         }
 
-        long remeasure(int lease) {
+        BigInteger remeasure(int lease) {
             L l = leases.get(lease);
-            long then = l.worth(l.gone + 1, l.rate);
-            long more = then - l.owed;
-            long usedThen = l.used + more;
-            long gain = 0;
-            if (usedThen < 0) {
-                gain = -usedThen;
-                usedThen = 0;
+            BigInteger then = l.worth(l.gone + 1, l.rate);
+            BigInteger more = then.subtract(l.owed);
+            BigInteger usedThen = l.used.add(more);
+            BigInteger gain = ZERO;
+            if (usedThen.signum() < 0) {
+                gain = usedThen.negate();
+                usedThen = ZERO;
             }
-            enter(2, lease, 0, -more, usedThen - l.used, 0, 0, -gain);
+            enter(2, lease, ZERO, more.negate(), usedThen.subtract(l.used), ZERO, ZERO, gain.negate());
             l.owed = then;
             l.used = usedThen;
-            l.measured += more;
+            l.measured = l.measured.add(more);
             return more;
         }
 
@@ -203,10 +212,10 @@ final class Model {
                     l.begun = true;
                     l.owed = l.worth(1, l.rate);
                     l.began = l.owed;
-                    l.used = l.owed + l.fee;
+                    l.used = l.owed.add(BigInteger.valueOf(l.fee));
                     l.base = index[period];
                     l.indexed = l.base;
-                    enter(0, i, -l.fee, -l.owed, l.owed + l.fee, 0, 0, 0);
+                    enter(0, i, BigInteger.valueOf(-l.fee), l.owed.negate(), l.used, ZERO, ZERO, ZERO);
                 } else if (l.tied && index[period] != l.indexed) {
                     l.index(index[period]);
                     remeasure(i);
@@ -218,52 +227,53 @@ final class Model {
 
         void pay(int i, L l) {
             int own = l.gone + 1;
-            long d = l.due(own);
+            BigInteger d = l.due(own);
             boolean last = own == l.term;
-            long was = l.owed;
-            long interest;
-            long then;
+            BigInteger was = l.owed;
+            BigInteger interest;
+            BigInteger then;
             if (!l.early) {
                 if (last) {
-                    interest = d - was;
-                    then = 0;
+                    interest = d.subtract(was);
+                    then = ZERO;
                 } else {
                     interest = rounded(was, l.rate, 1000000);
-                    if (d > was + interest) {
-                        interest += d - (was + interest);
+                    BigInteger above = d.subtract(was.add(interest));
+                    if (above.signum() > 0) {
+                        interest = interest.add(above);
                     }
-                    then = was + interest - d;
+                    then = was.add(interest).subtract(d);
                 }
             } else {
-                then = was - d < 0 ? 0 : was - d;
-                then += rounded(then, l.rate, 1000000);
+                then = was.subtract(d).max(ZERO);
+                then = then.add(rounded(then, l.rate, 1000000));
                 if (last) {
-                    then = 0;
+                    then = ZERO;
                 }
-                interest = then - was + d;
+                interest = then.subtract(was).add(d);
             }
-            long off = l.used / (l.term - l.gone);
-            enter(1, i, -d, was - then, -off, interest, off, 0);
+            BigInteger off = l.used.divide(BigInteger.valueOf(l.term - l.gone));
+            enter(1, i, d.negate(), was.subtract(then), off.negate(), interest, off, ZERO);
             l.owed = then;
-            l.used -= off;
-            l.interest += interest;
-            l.paid += d;
+            l.used = l.used.subtract(off);
+            l.interest = l.interest.add(interest);
+            l.paid = l.paid.add(d);
             l.gone = own;
             l.ended = last;
         }
 
-        long allOwed() {
-            long s = 0;
+        BigInteger allOwed() {
+            BigInteger s = ZERO;
             for (L l : leases) {
-                s += l.owed;
+                s = s.add(l.owed);
             }
             return s;
         }
 
-        long allPaid() {
-            long s = 0;
+        BigInteger allPaid() {
+            BigInteger s = ZERO;
             for (L l : leases) {
-                s += l.paid;
+                s = s.add(l.paid);
             }
             return s;
         }
@@ -272,11 +282,11 @@ final class Model {
             return entries.subList(Math.max(0, entries.size() - 40), entries.size());
         }
 
-        long takeNow(int option) {
+        BigInteger takeNow(int option) {
             O o = options.get(option);
             L l = leases.get(o.lease);
             o.taken = true;
-            l.more(o.more, o.each, o.each);
+            l.more(o.more, BigInteger.valueOf(o.each), BigInteger.valueOf(o.each));
             if (l.tied) {
                 l.index(index[period]);
             }
@@ -301,14 +311,14 @@ final class Model {
         }
     }
 
-    static long rounded(long x, long up, long under) {
-        BigDecimal q = new BigDecimal(BigInteger.valueOf(x).multiply(BigInteger.valueOf(up)))
+    static BigInteger rounded(BigInteger x, long up, long under) {
+        BigDecimal q = new BigDecimal(x.multiply(BigInteger.valueOf(up)))
             .divide(new BigDecimal(under), 30, RoundingMode.DOWN);
-        return q.add(new BigDecimal("0.5")).setScale(0, RoundingMode.FLOOR).longValueExact();
+        return q.add(new BigDecimal("0.5")).setScale(0, RoundingMode.FLOOR).toBigIntegerExact();
     }
 
-    static long down(long x, long up, long under) {
-        return BigInteger.valueOf(x).multiply(BigInteger.valueOf(up)).divide(BigInteger.valueOf(under)).longValueExact();
+    static BigInteger down(BigInteger x, long up, long under) {
+        return x.multiply(BigInteger.valueOf(up)).divide(BigInteger.valueOf(under));
     }
 
     List<Integer> tape = new ArrayList<>();
@@ -485,8 +495,8 @@ final class Model {
             }
             case "pay":
                 for (int k = (int) (long) n.get(0); k <= n.get(1); k++) {
-                    s.leases.get(lease).due.merge(k, n.get(2), Long::sum);
-                    s.leases.get(lease).setting.merge(k, n.get(2), Long::sum);
+                    s.leases.get(lease).due.merge(k, BigInteger.valueOf(n.get(2)), BigInteger::add);
+                    s.leases.get(lease).setting.merge(k, BigInteger.valueOf(n.get(2)), BigInteger::add);
                 }
                 break;
             case "early": s.leases.get(lease).early = true; break;
@@ -515,20 +525,40 @@ final class Model {
     static long quickWorth(L l, int k, long r) {
         long w = 0;
         for (int i = l.term; i >= k; i--) {
-            long x = l.early ? w : w + l.due(i);
+            long x = l.early ? w : w + l.due(i).longValueExact();
             x = (x * 2000000 + 1000000 + r) / (2 * (1000000 + r));
-            w = l.early ? l.due(i) + x : x;
+            w = l.early ? l.due(i).longValueExact() + x : x;
         }
         return w;
     }
 
     static long greatest(L l, int k, long w) {
+        if (l.allDue().bitLength() > 40) {
+            return greatestOfMuch(l, k, BigInteger.valueOf(w));
+        }
         for (long r = 200000; r >= 0; r--) {
             if (quickWorth(l, k, r) >= w) {
                 return r;
             }
         }
         return -2;
+    }
+
+    /** Amounts for which long arithmetic is none: ever smaller steps down and up from the greatest rate. */
+    static long greatestOfMuch(L l, int k, BigInteger w) {
+        long r = 200000;
+        for (long step = 10000; step >= 1; step /= 10) {
+            while (r > 0 && l.worth(k, r).compareTo(w) < 0) {
+                r = Math.max(0, r - step);
+            }
+            if (l.worth(k, r).compareTo(w) < 0) {
+                return -2;
+            }
+            if (step > 1) {
+                r = Math.min(200000, r + step);
+            }
+        }
+        return r;
     }
 
     // ---- the calls
@@ -632,17 +662,18 @@ final class Model {
 
     long amount(int lease, int what) {
         L l = at(lease);
-        return l == null || what < 0 || what > 1 ? -1 : what == 0 ? l.owed : l.used;
+        return l == null || what < 0 || what > 1 ? -1 : (what == 0 ? l.owed : l.used).longValue();
     }
 
     long due(int lease, int k) {
         L l = at(lease);
-        return l == null || k < 1 || k > l.term ? -1 : l.due(k);
+        return l == null || k < 1 || k > l.term ? -1 : l.due(k).longValue();
     }
 
     long worth(int lease, int k, int rate) {
         L l = at(lease);
-        return l == null || k < 1 || k > l.term || rate < 0 || rate > 1000000 ? -1 : l.worth(k, rate);
+        return l == null || k < 1 || k > l.term || rate < 0 || rate > 1000000 ? -1
+            : l.worth(k, rate).longValue();
     }
 
     int index(int period) {
@@ -653,11 +684,11 @@ final class Model {
         if (account < 0 || account > 5) {
             return NO;
         }
-        long s = 0;
+        BigInteger s = ZERO;
         for (Entry e : now.entries) {
-            s += e.amounts()[account];
+            s = s.add(e.amounts()[account]);
         }
-        return s;
+        return s.longValue();
     }
 
     long entry(int k, int what) {
@@ -670,7 +701,7 @@ final class Model {
             case 0: return e.sort();
             case 1: return e.period();
             case 2: return e.lease();
-            default: return what >= 10 && what <= 15 ? e.amounts()[what - 10] : NO;
+            default: return what >= 10 && what <= 15 ? e.amounts()[what - 10].longValue() : NO;
         }
     }
 
@@ -680,7 +711,7 @@ final class Model {
         }
         remember();
         on(lease).rate = rate;
-        return now.remeasure(lease);
+        return now.remeasure(lease).longValue();
     }
 
     long extend(int lease, int n) {
@@ -690,7 +721,7 @@ final class Model {
         }
         remember();
         l.more(n, l.due(l.term), l.setting(l.term));
-        return now.remeasure(lease);
+        return now.remeasure(lease).longValue();
     }
 
     long take(int option) {
@@ -698,7 +729,7 @@ final class Model {
             return NO;
         }
         remember();
-        return now.takeNow(option);
+        return now.takeNow(option).longValue();
     }
 
     long part(int lease, int p) {
@@ -707,17 +738,17 @@ final class Model {
             return NO;
         }
         remember();
-        long o = down(l.owed, p, 1000);
-        long u = down(l.used, p, 1000);
-        now.enter(3, lease, 0, o, -u, 0, 0, u - o);
-        l.owed -= o;
-        l.used -= u;
-        l.less += o;
+        BigInteger o = down(l.owed, p, 1000);
+        BigInteger u = down(l.used, p, 1000);
+        now.enter(3, lease, ZERO, o, u.negate(), ZERO, ZERO, u.subtract(o));
+        l.owed = l.owed.subtract(o);
+        l.used = l.used.subtract(u);
+        l.less = l.less.add(o);
         for (int k = l.gone + 1; k <= l.term; k++) {
             l.due.put(k, down(l.due(k), 1000 - p, 1000));
             l.setting.put(k, down(l.setting(k), 1000 - p, 1000));
         }
-        return o - u;
+        return o.subtract(u).longValue();
     }
 
     long end(int lease) {
@@ -726,24 +757,25 @@ final class Model {
             return NO;
         }
         remember();
-        long gain = l.owed - l.used;
-        now.enter(4, lease, 0, l.owed, -l.used, 0, 0, -gain);
-        l.less += l.owed;
-        l.owed = 0;
-        l.used = 0;
+        BigInteger gain = l.owed.subtract(l.used);
+        now.enter(4, lease, ZERO, l.owed, l.used.negate(), ZERO, ZERO, gain.negate());
+        l.less = l.less.add(l.owed);
+        l.owed = ZERO;
+        l.used = ZERO;
         l.ended = true;
-        return gain;
+        return gain.longValue();
     }
 
     long down(int lease, long v) {
         L l = on(lease);
-        if (l == null || v < 1 || v > l.used) {
+        BigInteger big = BigInteger.valueOf(v);
+        if (l == null || v < 1 || big.compareTo(l.used) > 0) {
             return NO;
         }
         remember();
-        l.used -= v;
-        now.enter(5, lease, 0, 0, -v, 0, 0, v);
-        return l.used;
+        l.used = l.used.subtract(big);
+        now.enter(5, lease, ZERO, ZERO, big.negate(), ZERO, ZERO, big);
+        return l.used.longValue();
     }
 
     long putOff(int lease, int k, int j) {
@@ -752,11 +784,11 @@ final class Model {
             return NO;
         }
         remember();
-        l.due.put(j, l.due(j) + l.due(k));
-        l.setting.put(j, l.setting(j) + l.setting(k));
-        l.due.put(k, 0L);
-        l.setting.put(k, 0L);
-        return now.remeasure(lease);
+        l.due.put(j, l.due(j).add(l.due(k)));
+        l.setting.put(j, l.setting(j).add(l.setting(k)));
+        l.due.put(k, ZERO);
+        l.setting.put(k, ZERO);
+        return now.remeasure(lease).longValue();
     }
 
     int become(int v) {
@@ -775,30 +807,31 @@ final class Model {
             return -1;
         }
         L then = now.ahead(n).leases.get(lease);
-        return new long[] {then.owed, then.used, then.paid - l.paid, then.interest - l.interest}[what];
+        return new BigInteger[] {then.owed, then.used, then.paid.subtract(l.paid),
+            then.interest.subtract(l.interest)}[what].longValue();
     }
 
     long all(int n) {
-        return n < 0 || n > 72 ? -1 : now.ahead(n).allOwed();
+        return n < 0 || n > 72 ? -1 : now.ahead(n).allOwed().longValue();
     }
 
     long soon(int lease, int what) {
         if (at(lease) == null || what < 0 || what > 1) {
             return -1;
         }
-        long then = now.ahead(12).leases.get(lease).owed;
-        return what == 1 ? then : at(lease).owed - then;
+        BigInteger then = now.ahead(12).leases.get(lease).owed;
+        return (what == 1 ? then : at(lease).owed.subtract(then)).longValue();
     }
 
     long sum(int account, int sort) {
         if (account < 0 || account > 5 || sort < 0 || sort > 5) {
             return NO;
         }
-        long s = 0;
+        BigInteger s = ZERO;
         for (Entry e : now.kept()) {
-            s += e.sort() == sort ? e.amounts()[account] : 0;
+            s = s.add(e.sort() == sort ? e.amounts()[account] : ZERO);
         }
-        return s;
+        return s.longValue();
     }
 
     long moved(int lease, int what) {
@@ -806,7 +839,7 @@ final class Model {
         if (l == null || what < 0 || what > 4) {
             return NO;
         }
-        return new long[] {l.began, l.interest, l.paid, l.measured, l.less}[what];
+        return new BigInteger[] {l.began, l.interest, l.paid, l.measured, l.less}[what].longValue();
     }
 
     int choose(int lease) {
@@ -831,7 +864,7 @@ final class Model {
                 }
             }
             L l = s.leases.get(lease);
-            BigInteger a = BigInteger.valueOf(l.owed);
+            BigInteger a = l.owed;
             BigInteger b = BigInteger.valueOf(l.term - l.gone);
             if (best < 0 || a.multiply(under).compareTo(up.multiply(b)) < 0) {
                 best = set;
@@ -855,24 +888,24 @@ final class Model {
         for (int k = l.gone + 1; k <= l.term; k++) {
             // Own period k is PERIOD begins + k - 1.
             long off = l.begins + k - 1 - now.period;
-            far = far.add(BigInteger.valueOf(l.due(k) * off));
-            all = all.add(BigInteger.valueOf(l.due(k)));
+            far = far.add(l.due(k).multiply(BigInteger.valueOf(off)));
+            all = all.add(l.due(k));
         }
         if (all.signum() == 0) {
             return -2;
         }
         BigInteger g = far.gcd(all);
-        return (below ? all : far).divide(g).longValueExact();
+        return (below ? all : far).divide(g).longValue();
     }
 
     /** What all pay in each of the PERIODS ahead. */
-    List<Long> payments(int n) {
-        List<Long> paid = new ArrayList<>();
+    List<BigInteger> payments(int n) {
+        List<BigInteger> paid = new ArrayList<>();
         State s = now.copy();
         for (int i = 0; i < n && s.period < 99; i++) {
-            long was = s.allPaid();
+            BigInteger was = s.allPaid();
             s.pass();
-            paid.add(s.allPaid() - was);
+            paid.add(s.allPaid().subtract(was));
         }
         return paid;
     }
@@ -881,12 +914,12 @@ final class Model {
         if (what != 0 && what != 1) {
             return -1;
         }
-        List<Long> paid = payments(72);
-        long most = 0;
-        for (long p : paid) {
-            most = Math.max(most, p);
+        List<BigInteger> paid = payments(72);
+        BigInteger most = ZERO;
+        for (BigInteger p : paid) {
+            most = most.max(p);
         }
-        return most == 0 ? -2 : what == 1 ? most : paid.indexOf(most);
+        return most.signum() == 0 ? -2 : what == 1 ? most.longValue() : paid.indexOf(most);
     }
 
     int partFor(int lease, long g) {
@@ -895,7 +928,7 @@ final class Model {
         }
         L l = on(lease);
         for (int p = 1; l != null && p <= 999; p++) {
-            if (down(l.owed, p, 1000) - down(l.used, p, 1000) >= g) {
+            if (down(l.owed, p, 1000).subtract(down(l.used, p, 1000)).compareTo(BigInteger.valueOf(g)) >= 0) {
                 return p;
             }
         }
@@ -919,9 +952,10 @@ final class Model {
         if (at(lease) == null || !at(lease).begun) {
             return -1;
         }
-        long was = at(lease).owed;
+        BigInteger was = at(lease).owed;
         for (int n = 0; n <= 72 && now.period + n <= 99; n++) {
-            if (now.ahead(n).leases.get(lease).owed <= was / 2.0) {
+            BigInteger then = now.ahead(n).leases.get(lease).owed;
+            if (then.add(then).compareTo(was) <= 0) {
                 return n;
             }
         }
@@ -932,12 +966,12 @@ final class Model {
         if (i < 0 || i > 71 || j < 0 || j > 71 || i > j) {
             return -1;
         }
-        List<Long> paid = payments(72);
-        long s = 0;
+        List<BigInteger> paid = payments(72);
+        BigInteger s = ZERO;
         for (int k = i; k <= j && k < paid.size(); k++) {
-            s += paid.get(k);
+            s = s.add(paid.get(k));
         }
-        return s;
+        return s.longValue();
     }
 
     long ifIndex(int lease, int v) {
@@ -950,13 +984,13 @@ final class Model {
         L l = on(lease).copy();
         if (l.tied) {
             l.index(v);
-            return l.worth(l.gone + 1, l.rate);
+            return l.worth(l.gone + 1, l.rate).longValue();
         }
-        return l.owed;
+        return l.owed.longValue();
     }
 
     long ifTaken(int option) {
-        return now.canTake(option) ? now.copy().takeNow(option) : NO;
+        return now.canTake(option) ? now.copy().takeNow(option).longValue() : NO;
     }
 
     long yields(int lease, int k, long w) {
@@ -980,9 +1014,9 @@ final class Model {
     static long levelWorth(L lease, long each) {
         L l = lease.copy();
         for (int k = 1; k <= l.term; k++) {
-            l.due.put(k, each);
+            l.due.put(k, BigInteger.valueOf(each));
         }
-        return l.worth(1, l.rate);
+        return l.worth(1, l.rate).longValueExact();
     }
 
     int heaviest() {
@@ -997,8 +1031,8 @@ final class Model {
             }
             L a = on(i);
             L b = on(best);
-            if (BigInteger.valueOf(a.owed).multiply(BigInteger.valueOf(b.term - b.gone))
-                .compareTo(BigInteger.valueOf(b.owed).multiply(BigInteger.valueOf(a.term - a.gone))) > 0) {
+            if (a.owed.multiply(BigInteger.valueOf(b.term - b.gone))
+                .compareTo(b.owed.multiply(BigInteger.valueOf(a.term - a.gone))) > 0) {
                 best = i;
             }
         }
@@ -1013,7 +1047,7 @@ final class Model {
             return -2;
         }
         BigInteger x = BigInteger.valueOf(seed == -1 ? now.seed : seed);
-        List<Long> ends = new ArrayList<>();
+        List<BigInteger> ends = new ArrayList<>();
         for (int i = 0; i < n; i++) {
             State s = now.copy();
             for (int p = 0; p < 12; p++) {
@@ -1025,11 +1059,11 @@ final class Model {
             ends.add(s.allOwed());
         }
         ends.sort(null);
-        long sum = 0;
-        for (long e : ends) {
-            sum += e;
+        BigInteger sum = ZERO;
+        for (BigInteger e : ends) {
+            sum = sum.add(e);
         }
-        return what == 0 ? sum : what == 1 ? ends.get(ends.size() - 1) : ends.get(0);
+        return (what == 0 ? sum : what == 1 ? ends.get(ends.size() - 1) : ends.get(0)).longValue();
     }
 
     int undo() {

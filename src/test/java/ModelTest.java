@@ -1,7 +1,9 @@
+import java.math.BigInteger;
 import java.util.Random;
 
 /** Random runs of calls, each answer compared with the Model's. */
 public final class ModelTest {
+    private static final BigInteger MOST = BigInteger.valueOf(Long.MAX_VALUE);
     private static final String[] NAMES = {"a", "b", "cc", "ddd", "zzzzzz", "house", "paid"};
 
     private final Random random;
@@ -19,6 +21,9 @@ public final class ModelTest {
         long from = args.length > 1 ? Long.parseLong(args[1]) : 1;
         for (long seed = from; seed < from + runs && Check.wrong() == 0; seed++) {
             new ModelTest(seed).run();
+        }
+        for (long seed = from; seed < from + runs && Check.wrong() == 0; seed++) {
+            new ModelTest(seed).muchRun();
         }
         for (long seed = from; seed < from + 20L * runs && Check.wrong() == 0; seed++) {
             new ModelTest(seed).texts();
@@ -74,6 +79,54 @@ public final class ModelTest {
             }
         }
         whole();
+    }
+
+    /** Amounts that grow to a long's bounds and far beyond them. */
+    private void muchRun() {
+        tell(shortText(), true);
+        int n = in(1, 3);
+        same("go(" + n + ")", x.go(n), m.go(n));
+        int calls = in(30, 100);
+        for (int i = 0; i < calls && Check.wrong() == 0; i++) {
+            switch (random.nextInt(i < 6 ? 2 : 6)) {
+                case 0: grow(lease(), in(1, 40)); break;
+                case 1: if (random.nextInt(4) == 0) { deed(); } break;
+                default: ask(); break;
+            }
+            if (random.nextInt(20) == 0) {
+                whole();
+            }
+        }
+        whole();
+    }
+
+    private String shortText() {
+        StringBuilder b = new StringBuilder();
+        int leases = in(1, 4);
+        for (int i = 0; i < leases; i++) {
+            String w = " " + NAMES[i];
+            int rate = new int[] {0, 1, 10000, 200000}[random.nextInt(4)];
+            b.append("lease").append(w).append(" ").append(random.nextInt(4) == 0 ? in(0, 3) : 0).append(" ").append(in(2, 6))
+                .append(" ").append(rate).append(";pay").append(w).append(" 1 ").append(in(2, 48)).append(" ")
+                .append(in(1, 99999)).append(";");
+            b.append(random.nextInt(2) == 0 ? "early" + w + ";" : "");
+            b.append(random.nextInt(2) == 0 ? "tied" + w + ";" : "");
+        }
+        for (int i = 0; i < 4; i++) {
+            b.append("option ").append(NAMES[random.nextInt(leases)]).append(" ").append(in(1, 9)).append(" ")
+                .append(in(0, 99999)).append(";");
+        }
+        b.append(random.nextInt(2) == 0 ? "index 2 777;index 9 2000;" : "index 0 500;index 5 1999;");
+        return b.toString();
+    }
+
+    /** Each period more, with the payment ahead put off to it, doubles what is due last. */
+    private void grow(int l, int times) {
+        for (int i = 0; i < times && m.on(l) != null && m.on(l).term < 72; i++) {
+            same("extend(" + l + ",1)", x.extend(l, 1), m.extend(l, 1));
+            int t = m.on(l).term;
+            same("putOff(" + l + "," + (t - 1) + "," + t + ")", x.putOff(l, t - 1, t), m.putOff(l, t - 1, t));
+        }
     }
 
     private void texts() {
@@ -247,8 +300,8 @@ public final class ModelTest {
                 break;
             }
             case 9: {
-                long used = m.at(l) == null ? 5 : m.at(l).used;
-                long v = random.nextInt(5) == 0 ? used + in(0, 1) : (long) (random.nextDouble() * used);
+                long used = m.at(l) == null ? 5 : m.at(l).used.min(MOST).longValue();
+                long v = random.nextInt(5) == 0 ? used + in(0, 1) : (long) (random.nextDouble() * used * 0.999);
                 same("down(" + l + "," + v + ")", x.down(l, v), m.down(l, v));
                 break;
             }
@@ -307,8 +360,10 @@ public final class ModelTest {
                 break;
             }
             case 9: case 10: {
-                long diff = m.at(l) == null ? 3 : m.at(l).owed - m.at(l).used;
-                long g = (long) (random.nextDouble() * diff * 1.1) + in(-1, 1);
+                long diff = m.at(l) == null ? 3
+                    : m.at(l).owed.subtract(m.at(l).used).min(MOST).max(MOST.negate()).longValue();
+                long g = random.nextInt(9) == 0 ? random.nextLong()
+                    : (long) (random.nextDouble() * diff * 1.1) + in(-1, 1);
                 same("partFor(" + l + "," + g + ")", x.partFor(l, g), m.partFor(l, g));
                 break;
             }
@@ -336,7 +391,7 @@ public final class ModelTest {
             }
             case 16: {
                 int k = own(l);
-                long w = worthNear(l, k);
+                long w = random.nextInt(4) == 0 ? any(1, 999999999) : worthNear(l, k);
                 same("yields(" + l + "," + k + "," + w + ")", x.yields(l, k, w), m.yields(l, k, w));
                 break;
             }
@@ -383,7 +438,7 @@ public final class ModelTest {
         if (m.at(l) == null || k < 1 || k > m.at(l).term) {
             return 7;
         }
-        return m.at(l).worth(k, in(0, 210000)) + in(-1, 1);
+        return m.at(l).worth(k, in(0, 210000)).min(MOST).longValue() + in(-1, 1);
     }
 
     /** All that can be asked of the state itself. */
