@@ -1110,7 +1110,7 @@ public final class LeaseLedger {
             low &= LOW_MASK;
         }
 
-        /** Times n 0 .. 1200000. */
+        /** Times n 0 .. 1000000. */
         void times(long n) {
             low *= n;
             high = high * n + (low >> LOW_BITS);
@@ -1130,16 +1130,11 @@ public final class LeaseLedger {
             if (under <= 0) {
                 return;
             }
-            if (high == 0) {
-                set((low * up + more) / under);
-                return;
-            }
             // Divided ahead of the times, so that nothing on the way is beyond what comes of it.
             long rest = (high % under << LOW_BITS) + low;
-            high /= under;
-            low = rest / under;
-            times(up);
-            addLong((rest % under * up + more) / under);
+            low = rest / under * up + (rest % under * up + more) / under;
+            high = high / under * up + (low >> LOW_BITS);
+            low &= LOW_MASK;
         }
 
         /** Takes the other one (1 or more) out as often as it goes, bit by bit: how often. */

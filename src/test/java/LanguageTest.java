@@ -1,3 +1,6 @@
+import java.io.File;
+import java.io.PrintWriter;
+import java.io.StringWriter;
 import java.lang.reflect.Constructor;
 import java.lang.reflect.Field;
 import java.lang.reflect.Method;
@@ -8,10 +11,14 @@ import java.nio.file.Path;
 import java.util.ArrayList;
 import java.util.Arrays;
 import java.util.List;
+import java.util.Map;
+import java.util.Optional;
 import java.util.Set;
+import java.util.TreeMap;
 import java.util.TreeSet;
 import java.util.regex.Matcher;
 import java.util.regex.Pattern;
+import java.util.spi.ToolProvider;
 
 /** The rules of LANGUAGE.md that can be seen in the source and in the compiled classes. */
 public final class LanguageTest {
@@ -31,6 +38,7 @@ public final class LanguageTest {
         words(source);
         imports(source);
         methods(source);
+        depth();
         Check.end();
     }
 
@@ -121,6 +129,66 @@ public final class LanguageTest {
         while (m.find()) {
             Check.yes("4 import " + m.group(1), Set.of("java.util.Arrays", "java.util.NoSuchElementException").contains(m.group(1)));
         }
+    }
+
+    /** Calls go at most eight deep from a call of the face on, as the compiled classes tell. */
+    private static void depth() throws Exception {
+        Optional<ToolProvider> javap = ToolProvider.findFirst("javap");
+        if (javap.isEmpty()) {
+            System.out.println("no javap here: the depth of calls is not looked at");
+            return;
+        }
+        File[] files = new File(LeaseLedger.class.getProtectionDomain().getCodeSource().getLocation().toURI())
+            .listFiles((dir, name) -> name.matches("LeaseLedger(\\$.*)?\\.class"));
+        List<String> args = new ArrayList<>(List.of("-c", "-p"));
+        for (File f : files) {
+            args.add(f.getPath());
+        }
+        StringWriter out = new StringWriter();
+        PrintWriter to = new PrintWriter(out);
+        Check.due("javap", javap.get().run(to, to, args.toArray(new String[0])), 0);
+        Map<String, Set<String>> calls = calls(out.toString());
+        Check.yes("calls were found", calls.size() > 100);
+        for (String m : calls.keySet()) {
+            if (m.startsWith("LeaseLedger.")) {
+                int deep = deep(calls, m, 0);
+                Check.yes("11 " + m + " goes " + deep + " deep", deep <= 8);
+            }
+        }
+    }
+
+    /** By each method (of one name, together) which others of the file it calls. */
+    private static Map<String, Set<String>> calls(String told) {
+        Pattern type = Pattern.compile("^.*\\b(?:class|interface) (LeaseLedger[\\w$]*).*\\{$");
+        Pattern method = Pattern.compile("^  \\S.*?([\\w$]+)\\(.*;$");
+        Pattern call = Pattern.compile("// (?:Interface)?Method (?:(LeaseLedger[\\w$]*)\\.)?\"?([\\w<>]+)\"?:");
+        Map<String, Set<String>> calls = new TreeMap<>();
+        String inside = "";
+        String at = "";
+        for (String line : told.split("\n")) {
+            Matcher t = type.matcher(line);
+            Matcher m = method.matcher(line);
+            Matcher c = call.matcher(line);
+            if (t.find()) {
+                inside = t.group(1);
+            } else if (m.find()) {
+                at = inside + "." + (m.group(1).startsWith("LeaseLedger") ? "<init>" : m.group(1));
+                calls.putIfAbsent(at, new TreeSet<>());
+            } else if (c.find() && calls.containsKey(at)) {
+                calls.get(at).add((c.group(1) == null ? inside : c.group(1)) + "." + c.group(2));
+            }
+        }
+        return calls;
+    }
+
+    private static int deep(Map<String, Set<String>> calls, String method, int open) {
+        int most = 0;
+        for (String next : calls.getOrDefault(method, Set.of())) {
+            if (calls.containsKey(next) && open < 20) {
+                most = Math.max(most, deep(calls, next, open + 1));
+            }
+        }
+        return most + 1;
     }
 
     /** Methods stay short: from a line that opens one to the line that closes it at the same depth. */
