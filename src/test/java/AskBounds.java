@@ -63,9 +63,15 @@ final class AskBounds {
         // As fractions: 20 by 2 and 30 by 3 are the same; 29 by 3 is less.
         is("30 by 3", begun("lease a 0 3 0;pay a 1 3 10;option a 1 10;").choose(0), 0);
         is("29 by 3", begun("lease a 0 3 0;pay a 1 3 10;option a 1 9;").choose(0), 1);
+        is("29 by 3, whatever is USED", begun("lease a 0 3 0;pay a 1 3 10;option a 1 9;fee a 7;").choose(0), 1);
+        is("31 by 3, whatever is USED", begun("lease a 0 3 0;pay a 1 3 10;option a 1 11;fee a 99;").choose(0), 0);
         is("31 by 3", begun("lease a 0 3 0;pay a 1 3 10;option a 1 11;").choose(0), 0);
         is("25 by 3 each, 30 by 4 both", begun("lease a 0 3 0;pay a 1 3 10;option a 1 5;option a 1 5;").choose(0), 3);
         is("of several the least as bits", begun("lease a 0 48 0;pay a 1 48 10;option a 24 5;option a 24 5;").choose(0), 1);
+        // Nothing is RE-MEASURED by none: OWED is 1 by 1 as it is, though WORTH of what is left is 0; taken it is 1 by 2.
+        LeaseLedger rest = begun("lease a 0 2 200000;pay a 1 1 3;option a 1 1;");
+        is("OWED as it is", rest.amount(0, 0), 1);
+        is("1 by 2", rest.choose(0), 1);
         LeaseLedger none = begun("lease a 0 3 0;pay a 1 3 10;");
         is("no options", none.choose(0), 0);
         // All four of them: 20 by 2, then 0 each.
@@ -76,6 +82,13 @@ final class AskBounds {
         is("tied, (5 and 5 and 15) by 3", t.choose(0), 1);
         t.become(2000);
         is("tied, (20 and 20 and 60) by 3", t.choose(0), 0);
+        // INDEXED by 500 it is 5 each; by 1000 again 10 each, as SETTING is: (10 and 1) by 2 is more than 5 by 1.
+        LeaseLedger s = begun("lease t 0 3 0;pay t 1 3 10;tied t;option t 1 1;");
+        s.become(500);
+        s.go(1);
+        is("tied, (5 and 0) by 2", s.choose(0), 1);
+        s.become(1000);
+        is("tied, (10 and 1) by 2", s.choose(0), 0);
         Twin.leaves("choose", Twin.BUSY, y -> y.choose(1));
     }
 
@@ -117,6 +130,11 @@ final class AskBounds {
         life(x, "2 in 1", 1, 1);
         x.go(1);
         life(x, "2 in 0: 0 by 2", 0, 1);
+        LeaseLedger s = begun("lease a 0 4 0;pay a 1 4 1;pay a 4 4 2;tied a;");
+        s.become(500);
+        s.go(1);
+        life(s, "by DUE 0 in 0 and 1 in 1", 1, 1);
+        life(Check.told("lease a 0 2 0;pay a 1 48 5;"), "what pays tell beyond TERM doesn't count: 5 by 10", 1, 2);
         LeaseLedger far = Check.told("lease a 20 48 0;pay a 48 48 99999;");
         life(far, "all in 67", 67, 1);
         says("-2: nothing is DUE, ENDED;");
@@ -233,6 +251,8 @@ final class AskBounds {
         is("half(0), 2: 1 in 1", begun("lease a 0 3 0;pay a 1 3 1;").half(0), 1);
         is("half(0), 1: 0 in 1", begun("lease a 0 2 0;pay a 1 2 1;").half(0), 1);
         is("half(0), 0 is OWED", begun("lease a 0 5 0;").half(0), 0);
+        is("half(0), 0 is OWED, something is USED", begun("lease a 0 5 0;fee a 99;").half(0), 0);
+        is("half(0), 40, whatever is USED", begun("lease a 0 5 0;pay a 1 5 10;fee a 99;").half(0), 2);
         is("half(0), ENDED", Twin.ENDED.get().half(0), 0);
         is("half(0), ENDED in PERIOD 99", Twin.LATE.get().half(0), 0);
         LeaseLedger grows = begun("lease a 0 3 200000;pay a 3 3 99999;");
@@ -289,11 +309,17 @@ final class AskBounds {
     private static void promise34() {
         Sentences.in("Promise 34");
         says("What OWED of a LEASE that has begun and is not ENDED would be, if the INDEX became v 500 .. 2000, tied ones being INDEXED and RE-MEASURED at once;");
-        LeaseLedger x = begun(TIED + "lease u 0 4 0;pay u 1 4 1001;");
+        LeaseLedger x = begun(TIED + "lease u 0 4 0;pay u 1 4 1001;fee u 99;");
         is("ifIndex(0, 500): 500.5 each", x.ifIndex(0, 500), 1500);
         is("ifIndex(0, 2000)", x.ifIndex(0, 2000), 6006);
         is("ifIndex(0, 1000)", x.ifIndex(0, 1000), 3003);
         is("ifIndex(1, 500), not tied", x.ifIndex(1, 500), 3003);
+        // INDEXED by 1500 it is 1501 each; SETTING is 1001 still.
+        x.become(1500);
+        x.go(1);
+        is("ifIndex(0, 1000), by SETTING", x.ifIndex(0, 1000), 2002);
+        is("ifIndex(0, 1500)", x.ifIndex(0, 1500), 3002);
+        is("ifIndex(0, 2000)", x.ifIndex(0, 2000), 4004);
         says("-2: it has not begun, is ENDED;");
         Twin.refused("ifIndex(1, 1000), not begun", Twin.TOLD, y -> y.ifIndex(1, 1000), -2);
         Twin.refused("ifIndex(0, 1000), ENDED", Twin.ENDED, y -> y.ifIndex(0, 1000), -2);
@@ -322,7 +348,10 @@ final class AskBounds {
         LeaseLedger t = begun(TIED);
         t.become(500);
         is("tied: less", t.ifTaken(0), 3 * 500 + 2 * 50 - 3003);
-        is("take(0)", t.take(0), 3 * 500 + 2 * 50 - 3003);
+        t.go(1);
+        t.become(2000);
+        is("tied, by SETTING", t.ifTaken(0), 2 * 2002 + 2 * 202 - 2 * 500);
+        is("take(0)", t.take(0), 2 * 2002 + 2 * 202 - 2 * 500);
         says("Long.MIN_VALUE as take().");
         Twin.refused("ifTaken(0), there are none", Twin.NEW, y -> y.ifTaken(0), NO);
         Twin.bounds("ifTaken", CallBounds::four, (y, option) -> y.ifTaken(option), NO, 0, 3);
@@ -348,6 +377,7 @@ final class AskBounds {
         LeaseLedger much = Check.told("lease c 0 1 5;" + "pay c 1 1 99999;".repeat(11));
         is("by 0 alone", much.yields(0, 1, 1099989), 0);
         is("by 1", much.yields(0, 1, 1099988), 1);
+        is("what pays tell beyond TERM doesn't count", Check.told("lease c 0 2 5;pay c 1 48 1000;").yields(0, 2, 990), 10611);
         says("-2: by none;");
         Twin.refused("yields(0, 1, 1099990)", () -> Check.told("lease c 0 1 5;" + "pay c 1 1 99999;".repeat(11)), y -> y.yields(0, 1, 1099990), -2);
         Twin.refused("yields(0, 1, 999999999)", Twin.BUSY, y -> y.yields(0, 1, 999999999), -2);
@@ -406,6 +436,8 @@ final class AskBounds {
         // As fractions, not rounded: 7 by 3 is more than 9 by 4.
         LeaseLedger y = begun("lease a 0 5 0;pay a 5 5 9;lease b 0 4 0;pay b 4 4 7;");
         is("9 by 4, 7 by 3", y.heaviest(), 1);
+        is("9 by 4, 7 by 3, whatever is USED", begun("lease a 0 5 0;pay a 5 5 9;fee a 999;lease b 0 4 0;pay b 4 4 7;").heaviest(), 1);
+        is("7 by 3, 9 by 4, whatever is USED", begun("lease b 0 4 0;pay b 4 4 7;lease a 0 5 0;pay a 5 5 9;fee a 999;").heaviest(), 0);
         is("nothing is OWED of the only one", begun("lease a 0 9 0;").heaviest(), 0);
         is("the last of four", begun("lease a 0 9 0;lease b 0 9 0;lease c 0 9 0;lease d 0 9 0;pay d 1 9 1;").heaviest(), 3);
         says("-2: there is none.");
@@ -466,6 +498,16 @@ final class AskBounds {
         is("undo()", x.undo(), 0);
         is("count(2)", x.count(2), 0);
         is("count(4)", x.count(4), 0);
+        // INDEXED by 1500 in PERIOD 1; SETTING comes back as it was, too.
+        LeaseLedger t = begun(TIED);
+        t.become(1500);
+        t.go(1);
+        t.rate(0, 7);
+        t.undo();
+        is("due(0, 4)", t.due(0, 4), 1501);
+        t.become(1000);
+        t.go(1);
+        is("due(0, 4) by SETTING", t.due(0, 4), 1001);
         LeaseLedger full = Twin.BUSY.get();
         is("full: count(6)", full.count(6), 20);
         is("undo()", full.undo(), 19);
@@ -529,6 +571,16 @@ final class AskBounds {
         x.end(0);
         is("back(), it stays", x.back(), 1);
         is("OWED", x.amount(0, 0), 1000);
+        LeaseLedger t = begun(TIED);
+        t.become(1500);
+        t.go(1);
+        t.keep();
+        t.part(0, 500);
+        t.back();
+        is("due(0, 4)", t.due(0, 4), 1501);
+        t.become(1000);
+        t.go(1);
+        is("due(0, 4) by SETTING", t.due(0, 4), 1001);
         // The IMAGE is not that what is done behind back().
         x.go(1);
         is("back()", x.back(), 1);

@@ -467,6 +467,11 @@ final class CallBounds {
         LeaseLedger y = CallBounds.inPeriod("lease a 20 48 0;pay a 1 48 1;", 66);
         y.extend(0, 24);
         is("up to PERIOD 99, 33 PERIODS come: plan(0, 33, 2)", y.plan(0, 33, 2), 26);
+        LeaseLedger t = Check.told("lease t 0 4 0;pay t 1 4 1001;tied t;index 1 1500;index 2 2000;index 3 1000;");
+        t.go(2);
+        is("INDEXED from SETTING: plan(0, 1, 0)", t.plan(0, 1, 0), 2002);
+        is("plan(0, 1, 2)", t.plan(0, 1, 2), 2002);
+        is("plan(0, 2, 2)", t.plan(0, 2, 2), 2002 + 1001);
         says("NONE: no such ones.");
         Twin.leases("plan(.., 1, 0)", CallBounds::four, (z, i) -> z.plan(i, 1, 0), -1);
         Twin.bounds("plan(0, .., 0)", Twin.BUSY, (z, n) -> z.plan(0, n, 0), -1, 0, 72);
@@ -515,7 +520,7 @@ final class CallBounds {
     private static void promise24() {
         Sentences.in("Promise 24");
         says("Of a LEASE, what 0 OWED less what is OWED AS IT GOES in 12 PERIODS (no more than come), 1 that;");
-        LeaseLedger x = Check.told("lease a 0 20 0;pay a 1 20 10;");
+        LeaseLedger x = Check.told("lease a 0 20 0;pay a 1 20 10;fee a 99;");
         is("not begun: soon(0, 0)", x.soon(0, 0), -80);
         is("soon(0, 1)", x.soon(0, 1), 80);
         x.go(1);

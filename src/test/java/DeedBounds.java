@@ -171,6 +171,14 @@ final class DeedBounds {
         t.become(2000);
         t.go(1);
         is("SETTING is 0, too", t.due(0, 3), 0);
+        LeaseLedger v = begun("lease t 0 4 0;pay t 1 4 1001;tied t;");
+        v.become(1500);
+        v.go(1);
+        v.part(0, 500);
+        is("DUE is INDEXED: 750.5", v.due(0, 3), 750);
+        v.become(1000);
+        v.go(1);
+        is("SETTING is 500.5, downwards", v.due(0, 3), 500);
         LeaseLedger u = begun("lease t 0 3 0;pay t 1 3 1001;tied t;");
         u.part(0, 500);
         u.become(2000);
@@ -246,7 +254,7 @@ final class DeedBounds {
         is("index(99)", x.index(99), 800);
         is("ENTRIES", x.count(4), 0);
         LeaseLedger y = Twin.LATE.get();
-        y.become(777);
+        is("PERIOD 99: become(777)", y.become(777), 1500);
         is("PERIOD 99: index(99)", y.index(99), 777);
         is("index(98)", y.index(98), 1500);
     }
@@ -314,7 +322,9 @@ final class DeedBounds {
         is("latest(0, 0)", x.latest(0, 0), -2);
         is("sum(1, 0)", x.sum(1, 0), 0);
         is("the ACCOUNTS have all of them", x.account(1), -x.amount(0, 0));
+        entry(x, 0, 2, 1, 0, 0, 0, 0, 0, 0, 0);
         x.rate(0, 42);
+        entry(x, 0, 2, 1, 0, 0, 0, 0, 0, 0, 0);
         is("42: entry(39, 0)", x.entry(39, 0), 2);
         is("latest(0, 1)", x.latest(0, 1), -2);
         for (int i = 0; i < 81; i++) {
@@ -393,18 +403,23 @@ final class DeedBounds {
 
     /** Every deed that can be undone, on the ledger with a LEASE that runs. */
     private static final Twin.Call[] UNDONE = {x -> x.go(1), x -> x.rate(0, 7), x -> x.extend(1, 2), x -> x.take(2), x -> x.part(1, 7),
-        x -> x.end(1), x -> x.down(0, 7), x -> x.putOff(1, 6, 9), x -> x.become(1777)};
+        x -> x.end(1), x -> x.down(0, 7), x -> x.putOff(1, 20, 30), x -> x.become(1777)};
 
     private static void undone() {
         says("All by call in 3, and each PERIOD, can be undone, the latest first");
         for (int i = 0; i < UNDONE.length; i++) {
             Twin.Call deed = UNDONE[i];
-            LeaseLedger x = Twin.BEGUN.get();
+            LeaseLedger x = Twin.INDEXED.get();
             deed.of(x);
-            is("deed " + i + ", count(6)", x.count(6), 2);
-            is("deed " + i + ", undo()", x.undo(), 1);
-            Twin.leaves("deed " + i + " and undo()", Twin.BEGUN, y -> deed.of(y) + y.undo());
+            is("deed " + i + ", count(6)", x.count(6), 5);
+            is("deed " + i + ", undo()", x.undo(), 4);
+            Twin.leaves("deed " + i + " and undo(), INDEXED ahead of it", Twin.INDEXED, y -> deed.of(y) + y.undo());
+            Twin.leaves("deed " + i + " and undo(), the JOURNAL is full", Twin.FULL, y -> deed.of(y) + y.undo());
         }
+        LeaseLedger late = Twin.LATE.get();
+        is("become(777) in PERIOD 99", late.become(777), 1500);
+        late.undo();
+        is("undone: index(99)", late.index(99), 1500);
         LeaseLedger x = Twin.BEGUN.get();
         x.go(3);
         is("go(3), count(6)", x.count(6), 4);
@@ -456,6 +471,18 @@ final class DeedBounds {
         List<Long> was = Probe.of(DeedBounds::kept);
         List<Long> then = Probe.of(DeedBounds::cameBack);
         is("back(): the first thing that is another one", Probe.firstDifference(was, then), -1);
+        List<Long> full = Probe.of(DeedBounds::keptFull);
+        List<Long> fullThen = Probe.of(DeedBounds::cameBackFull);
+        is("back(), the JOURNAL is full: the first thing that is another one", Probe.firstDifference(full, fullThen), -1);
+        LeaseLedger late = Twin.LATE.get();
+        late.undo();
+        late.keep();
+        late.become(777);
+        late.go(1);
+        late.become(888);
+        is("back() to PERIOD 98", late.back(), 98);
+        is("index(98)", late.index(98), 1500);
+        is("index(99)", late.index(99), 1500);
         LeaseLedger x = kept();
         x.go(1);
         Check.tell(x, "seed 1;Q");
@@ -476,6 +503,23 @@ final class DeedBounds {
         x.take(0);
         x.become(1111);
         x.keep();
+        x.back();
+        return x;
+    }
+
+    private static LeaseLedger keptFull() {
+        LeaseLedger x = Twin.FULL.get();
+        x.keep();
+        x.back();
+        return x;
+    }
+
+    private static LeaseLedger cameBackFull() {
+        LeaseLedger x = keptFull();
+        for (Twin.Call deed : UNDONE) {
+            deed.of(x);
+        }
+        x.go(12);
         x.back();
         return x;
     }

@@ -20,6 +20,7 @@ public final class LargeAmountsTest {
         half();
         yields();
         heaviest();
+        heaviestOfNearlyTheSame();
         partsBringItBack();
         partFor();
         down();
@@ -169,6 +170,29 @@ public final class LargeAmountsTest {
         int rate = x.yields(0, 2, 999999999L);
         Check.yes("WORTH by it", x.worth(0, 2, rate) >= 999999999L && x.worth(0, 2, rate + 1) < 999999999L);
         is("DUE", x.due(0, 42), due);
+    }
+
+    /** The same OWED of both, one that is no round number of 2: the first; one less in either decides. */
+    private static void heaviestOfNearlyTheSame() {
+        String text = "lease a 0 3 0;pay a 3 3 99999;lease b 0 3 0;pay b 3 3 99999;";
+        LeaseLedger x = grown(text, 50);
+        grow(x, 1, 50);
+        x.part(0, 1);
+        x.part(1, 1);
+        is("two the same", x.amount(0, 0), x.amount(1, 0));
+        is("the first of two the same", x.heaviest(), 0);
+        LeaseLedger w = grown(text + "pay b 2 2 9;", 50);
+        grow(w, 1, 50);
+        w.part(0, 1);
+        w.part(1, 1);
+        is("nine more", w.amount(1, 0) - w.amount(0, 0), 9);
+        is("nine more decide", w.heaviest(), 1);
+        LeaseLedger y = grown(text.replace("pay b 3 3 99999", "pay b 3 3 99998"), 50);
+        grow(y, 1, 50);
+        is("the second is a little less", y.heaviest(), 0);
+        LeaseLedger z = grown(text.replace("pay a 3 3 99999", "pay a 3 3 99998"), 50);
+        grow(z, 1, 50);
+        is("the first is a little less", z.heaviest(), 1);
     }
 
     private static void heaviest() {

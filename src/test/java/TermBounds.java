@@ -93,6 +93,9 @@ final class TermBounds {
         is("due(0, 2)", x.due(0, 2), -1);
         is("due(1, 48)", x.due(1, 48), 7);
         is("due(1, 49)", x.due(1, 49), -1);
+        is("worth(0, 1, 0)", x.worth(0, 1, 0), 7);
+        is("worth(1, 48, 0)", x.worth(1, 48, 0), 7);
+        is("worth(1, 1, 0)", x.worth(1, 1, 0), 48 * 7);
         is("in PERIOD 0", x.cash(0, 0), 7);
         is("in PERIOD 1", x.cash(1, 1), 0);
         is("in PERIOD 19", x.cash(19, 19), 0);
@@ -142,6 +145,7 @@ final class TermBounds {
         // By 1.2 it is 833.3, so 833 is found at the bound; 834 below it: 1000000000 by 833.5 is 1199760.04.
         rateFound("lease c 0 1 5;pay c 1 1 1000;fair c 833;", 200000, 1);
         rateFound("lease c 0 1 5;pay c 1 1 1000;fair c 834;", 199760, 1);
+        rateFound("lease c 0 1 5;pay c 1 48 1000;fair c 834;", 199760, 1);
         rateFound("lease c 0 1 5;pay c 1 1 1000;fair c 1;", 200000, 1);
         rateFound("lease c 0 1 5;pay c 1 1 1000;fair c 1000;early c;", 200000, 1);
         // By 0 alone: one of a million less takes 1.1 off.

@@ -310,6 +310,10 @@ final class TextBounds {
         is("by the seed", x.chance(-1, 1, 0), x.chance(99999, 1, 0));
         LeaseLedger y = taken(tied, 3);
         is("none told", y.chance(-1, 1, 0), y.chance(0, 1, 0));
+        for (int i = 1; i <= 3; i++) {
+            Check.tell(x, tied);
+            is("none told in text " + i + " behind the first", x.chance(-1, 1, 0), y.chance(0, 1, 0));
+        }
         Sentences.holds("these are told apart", x.chance(99999, 1, 0) != x.chance(0, 1, 0));
     }
 
@@ -377,6 +381,22 @@ final class TextBounds {
         is("text(7) of \"seed 12345;\"", x.text(7), -1);
         is("FAULT", x.fault(0), 1);
         is("place", x.fault(1), 7);
+        Check.feed(x, Check.bytes("lease a 0 1 0;early ab;"));
+        is("text(21) of \"lease a 0 1 0;early ab;\"", x.text(21), -1);
+        is("FAULT", x.fault(0), 1);
+        is("place", x.fault(1), 21);
+        Check.feed(x, Check.bytes("seed 1;early ab;"));
+        is("text(11) of \"seed 1;early ab;\"", x.text(11), -1);
+        is("FAULT", x.fault(0), 1);
+        is("place", x.fault(1), 7);
+        // The TAPE is full to its last byte.
+        String blanks = " ".repeat(640);
+        refused(1, "lease a 0 1 0;" + blanks + " ".repeat(33) + "early !abcdefg");
+        refused(1, "lease a 0 1 0;" + blanks + " ".repeat(39) + "early a!");
+        refused(1, "lease a 0 1 0;" + blanks + " ".repeat(40) + "seed 9!");
+        refused(1, "lease a 0 1 0;" + blanks + " ".repeat(45) + "!#");
+        taken("lease a 0 1 0;" + blanks + " ".repeat(38) + "early a;", 2);
+        taken("lease a 0 1 0;" + blanks + " ".repeat(39) + "seed 9;", 2);
     }
 
     private static void faultTwoNumbers() {
@@ -507,6 +527,9 @@ final class TextBounds {
             Probe.firstDifference(Probe.of(TextBounds::emptied), Probe.of(Twin.NEW)), -1);
         is("a text behind another is as in a new object (the first thing that isn't)",
             Probe.firstDifference(Probe.of(TextBounds::toldAnew), Probe.of(Twin.TOLD)), -1);
+        is("plain text behind full ones (the first thing that isn't as in a new object)",
+            Probe.firstDifference(Probe.of(() -> behindFull(0)), Probe.of(() -> Check.told(PLAIN))), -1);
+        is("and when it has begun", Probe.firstDifference(Probe.of(() -> behindFull(2)), Probe.of(TextBounds::plainBegun)), -1);
         says("how many LINES;");
         taken("", 0);
         taken(" ".repeat(699) + "\n", 0);
@@ -523,6 +546,42 @@ final class TextBounds {
         taken(all.toString(), 45);
         all.append(" ".repeat(700 - all.length()));
         taken(all.toString(), 45);
+    }
+
+    /** Nothing but what must be told. */
+    private static final String PLAIN = "lease a 0 3 0;lease b 1 3 5;lease c 0 3 7;lease d 0 3 9;" + "pay a 1 3 5;".repeat(12)
+        + "option a 1 1;option b 1 1;option c 1 1;option d 1 1;";
+
+    private static LeaseLedger plainBegun() {
+        LeaseLedger x = Check.told(PLAIN);
+        x.go(2);
+        return x;
+    }
+
+    /** Behind two texts that tell all that there is, and all sorts of deeds: nothing of them is left. */
+    private static LeaseLedger behindFull(int periods) {
+        StringBuilder all = new StringBuilder("index 0 600;index 3 700;seed 9;");
+        for (String name : new String[] {"d", "c", "b", "a"}) {
+            all.append("lease ? 0 9 77;early ?;fair ? 5;fee ? 9;tied ?;option ? 2 9;pay ? 1 9 4;pay ? 9 48 5;pay ? 1 1 1;".replace("?", name));
+        }
+        LeaseLedger x = new LeaseLedger();
+        for (int i = 0; i < 2; i++) {
+            is("a full text", Check.tell(x, all.toString()), 3 + 4 * 9);
+            x.go(2);
+            for (int k = 0; k < 4; k++) {
+                x.take(k);
+                x.rate(k, 8);
+                x.part(k, 300);
+            }
+            x.end(1);
+            x.keep();
+            x.chance(-1, 3, 0);
+        }
+        is("the plain text", Check.tell(x, PLAIN), 20);
+        if (periods > 0) {
+            x.go(periods);
+        }
+        return x;
     }
 
     private static LeaseLedger emptied() {

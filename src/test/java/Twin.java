@@ -18,9 +18,18 @@ final class Twin {
         + "lease t 0 12 5000;pay t 1 12 1001;tied t;early t;option t 2 100;lease c 3 9 0;pay c 1 9 77;"
         + "lease d 20 48 200000;pay d 1 48 9;index 2 1100;index 30 1500;seed 5;";
 
+    /** Leases that go on for long, one of them INDEXED in between, so that its DUE and its SETTING are not the same. */
+    static final String LONG = "lease a 0 48 1000;pay a 1 48 500;fee a 50;option a 1 1;option a 2 7;lease b 0 48 2000;"
+        + "pay b 1 48 999;tied b;option b 2 9;lease c 0 48 0;pay c 1 48 3;lease d 0 30 7;pay d 1 30 44;early d;"
+        + "index 3 1234;index 40 1500;seed 77;";
+
     static final Supplier<LeaseLedger> NEW = LeaseLedger::new;
     static final Supplier<LeaseLedger> TOLD = () -> Check.told(RICH);
     static final Supplier<LeaseLedger> BEGUN = Twin::begun;
+    /** INDEXED: DUE is not SETTING. */
+    static final Supplier<LeaseLedger> INDEXED = Twin::indexed;
+    /** A full JOURNAL, with room for deeds to undo still. */
+    static final Supplier<LeaseLedger> FULL = Twin::full;
     static final Supplier<LeaseLedger> BUSY = Twin::busy;
     static final Supplier<LeaseLedger> ENDED = Twin::ended;
     static final Supplier<LeaseLedger> LATE = Twin::late;
@@ -33,6 +42,18 @@ final class Twin {
     private static LeaseLedger begun() {
         LeaseLedger x = Check.told(RICH);
         x.go(1);
+        return x;
+    }
+
+    private static LeaseLedger indexed() {
+        LeaseLedger x = Check.told(LONG);
+        x.go(4);
+        return x;
+    }
+
+    private static LeaseLedger full() {
+        LeaseLedger x = Check.told(LONG);
+        x.go(12);
         return x;
     }
 
