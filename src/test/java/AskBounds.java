@@ -378,7 +378,10 @@ final class AskBounds {
         is("by 0 alone", much.yields(0, 1, 1099989), 0);
         is("by 1", much.yields(0, 1, 1099988), 1);
         is("what pays tell beyond TERM doesn't count", Check.told("lease c 0 2 5;pay c 1 48 1000;").yields(0, 2, 990), 10611);
+        is("yields(0, 2, 1000), of the second alone", x.yields(0, 2, 1000), 500);
         says("-2: by none;");
+        is("yields(0, 2, 1001), of the second alone", x.yields(0, 2, 1001), -2);
+        is("yields(0, 1, 2001)", x.yields(0, 1, 2001), -2);
         Twin.refused("yields(0, 1, 1099990)", () -> Check.told("lease c 0 1 5;" + "pay c 1 1 99999;".repeat(11)), y -> y.yields(0, 1, 1099990), -2);
         Twin.refused("yields(0, 1, 999999999)", Twin.BUSY, y -> y.yields(0, 1, 999999999), -2);
         says("NONE: no such ones.");

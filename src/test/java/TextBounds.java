@@ -600,7 +600,7 @@ final class TextBounds {
     private static void promise3Fault() {
         says("NONE with a FAULT, all else stays;");
         List<Long> was = Probe.of(TextBounds::withoutTape);
-        for (String bad : new String[] {";", "lease q 0 9 0;pay q 1 9 5;index 0 500;seed 9;early z;", "seed 1", "lease a 21 1 0;"}) {
+        for (String bad : new String[] {";", "seed 1;seed 2;", "lease q 0 9 0;pay q 1 9 5;index 0 500;seed 9;early z;", "seed 1", "lease a 21 1 0;"}) {
             LeaseLedger x = withoutTape();
             is("text \"" + bad + "\"", Check.tell(x, bad), -1);
             is("count(7), the TAPE is empty", x.count(7), 0);
